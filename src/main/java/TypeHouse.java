@@ -536,7 +536,7 @@ public final class TypeHouse {
         }
 
         private void unwind() {
-            while (groups > 0) {
+            for (int open = groups; open > 0; open--) {
                 closeGroup();
             }
         }
@@ -1293,7 +1293,7 @@ public final class TypeHouse {
         private static final int MOST_GOT = 10000;
 
         private final State state;
-        private byte[] text;
+        private byte[] text = new byte[0];
         private int textEnd;
         private int nextLine;
         private int lineEnd;
@@ -1661,10 +1661,12 @@ public final class TypeHouse {
             } else if (p < IF) {
                 expandWord(p);
             } else if (p > IFCASE) {
-                meetDivider(t, p);
+                drop(meetDivider(t, p), -1);
             } else {
                 int c = openCondition(p);
-                settle(c, decide(p));
+                int n = decide(p);
+                stage[c] = DECIDED;
+                drop(c, n);
             }
             depth--;
             if (reader.waiting > Reader.MOST_PENDING) {
@@ -1904,51 +1906,40 @@ public final class TypeHouse {
             return t;
         }
 
-        /** Condition c is decided: what does not go its way is dropped. */
-        private void settle(int c, int n) {
-            stage[c] = DECIDED;
-            int left = n;
-            for (int guard = 0; guard < FAR && left != 0; guard++) {
-                int p = dropToDivider();
-                if (open - 1 > c) {
-                    // A condition that was opened while c was being decided: only its fi counts.
-                    if (p == FI) {
-                        open--;
-                    }
-                } else if (p == OR) {
-                    if (condition[c] != IFCASE) {
-                        state.fail(8);
-                    }
-                    left = left > 0 ? left - 1 : left;
-                } else if (p == ELSE) {
-                    stage[c] = BEHIND_ELSE;
-                    return;
-                } else {
-                    open--;
-                    return;
-                }
-            }
-        }
-
-        /** Drops tokens up to an else, or or fi that belongs to no condition among them. */
-        private int dropToDivider() {
+        /** Drops what does not go its way of condition c: up to its n-th or, or its else or fi; for n = 0 nothing. */
+        private void drop(int c, int n) {
+            int left = c < 0 ? 0 : n;
             int inner = 0;
-            for (int guard = 0; guard < FAR; guard++) {
+            for (int guard = 0; guard < FAR && left != 0; guard++) {
                 int m = meaning(reader.next(true));
                 int p = m >> 16 == PRIMITIVE >> 16 ? m & LOW : RELAX;
                 if (p >= IF && p <= IFCASE) {
                     inner++;
-                } else if (p >= ELSE && p <= FI) {
-                    if (inner == 0) {
-                        return p;
-                    }
+                } else if (p < ELSE || p > FI) {
+                    continue;
+                } else if (inner > 0) {
                     inner -= p == FI ? 1 : 0;
+                } else if (open - 1 > c) {
+                    // A condition that was opened while c was being decided: only its fi counts.
+                    open -= p == FI ? 1 : 0;
+                } else if (p == FI) {
+                    open--;
+                    return;
+                } else if (stage[c] != BEHIND_ELSE) {
+                    if (p == ELSE) {
+                        stage[c] = BEHIND_ELSE;
+                        return;
+                    }
+                    if (condition[c] != IFCASE) {
+                        state.fail(8);
+                    }
+                    left = left > 0 ? left - 1 : left;
                 }
             }
-            return FI;
         }
 
-        private void meetDivider(int t, int p) {
+        /** An else, or or fi is met: the condition of which the rest is to be dropped then, or -1. */
+        private int meetDivider(int t, int p) {
             if (open == 0) {
                 state.fail(8);
             }
@@ -1956,18 +1947,17 @@ public final class TypeHouse {
             if (stage[c] == UNDECIDED) {
                 reader.put(t);
                 reader.put(NAME | RELAX | MARK);
-                return;
+                return -1;
             }
-            if (p != FI) {
-                if (stage[c] == BEHIND_ELSE || p == OR && condition[c] != IFCASE) {
-                    state.fail(8);
-                }
-                int divider = dropToDivider();
-                for (int guard = 0; guard < FAR && divider != FI; guard++) {
-                    divider = dropToDivider();
-                }
+            if (p == FI) {
+                open--;
+                return -1;
             }
-            open--;
+            if (stage[c] == BEHIND_ELSE || p == OR && condition[c] != IFCASE) {
+                state.fail(8);
+            }
+            stage[c] = BEHIND_ELSE;
+            return c;
         }
 
         /** What comes behind spaces and signs; less tells if these make it less. */
@@ -2445,8 +2435,9 @@ public final class TypeHouse {
         }
 
         private long sized(long v) {
-            if (!isSize(v)) {
-                state.fail(16);
+            if (v > GREATEST || v < -GREATEST) {
+                state.fault = 16;
+                throw new IllegalStateException();
             }
             return v;
         }
@@ -3341,7 +3332,8 @@ public final class TypeHouse {
             number(249, 1);
             number(post, 4);
             number(2, 1);
-            for (int i = 0; i < 4 || size % 4 != 0; i++) {
+            int fill = 4 + Math.floorMod(-size, 4);
+            for (int i = 0; i < fill; i++) {
                 number(223, 1);
             }
         }
@@ -3622,21 +3614,16 @@ public final class TypeHouse {
         /** The run, up to its end or a fault. */
         private void work() {
             for (int guard = 0; guard < FAR; guard++) {
-                int t = expander.expanded(false);
-                if (t < 0) {
-                    break;
-                }
-                state.tick();
-                int m = expander.meaning(t);
+                int m = nextMeaning();
                 int p = m >> 16 == PRIMITIVE >> 16 ? m & LOW : -1;
                 if (p == END) {
                     break;
                 }
-                boolean printed = m >> 16 == NUMBER >> 16 || m >> 16 == CHARACTER >> 16 && (m >> 8 & 15) >= 11;
+                boolean printed = isPrinted(m);
                 if (!printed && p != CHAR) {
                     endWord();
                 }
-                if (mode() == PARAGRAPH && endsParagraph(m, p)) {
+                if (mode() == PARAGRAPH && (p == PAR || p >= VSKIP && p <= HRULE || closesBox(m))) {
                     endParagraph();
                 } else if (mode() <= INNER && (printed || p >= CHAR && p <= SPACE_NAME)) {
                     beginParagraph(p != NOINDENT);
@@ -3656,8 +3643,13 @@ public final class TypeHouse {
                     assign(p, global);
                 } else if (p >= CHAR && p <= COPY) {
                     typeset(p);
+                } else if (closesBox(m)) {
+                    closeBox();
                 } else {
                     doPlain(m, p);
+                }
+                if (isWordFull()) {
+                    endWord();
                 }
                 if (wanted != NO_BOX) {
                     readBox();
@@ -3677,9 +3669,22 @@ public final class TypeHouse {
             pages.look();
         }
 
-        private boolean endsParagraph(int m, int p) {
-            return p == PAR || p >= VSKIP && p <= HRULE || m >> 8 == (CHARACTER >> 8 | 2) && state.groups > 0
-                && state.groupKind[state.groups] == BOXED;
+        /** What the next token that is to be done means; the end of the source means end. */
+        private int nextMeaning() {
+            int t = expander.expanded(false);
+            if (t < 0) {
+                return PRIMITIVE | END;
+            }
+            state.tick();
+            return expander.meaning(t);
+        }
+
+        private boolean isPrinted(int m) {
+            return m >> 16 == NUMBER >> 16 || m >> 16 == CHARACTER >> 16 && (m >> 8 & 15) >= 11;
+        }
+
+        private boolean closesBox(int m) {
+            return m >> 8 == (CHARACTER >> 8 | 2) && state.groups > 0 && state.groupKind[state.groups] == BOXED;
         }
 
         /** An item comes to the list there is. */
@@ -3789,9 +3794,10 @@ public final class TypeHouse {
             wordFont = font;
             word[wordSize] = c;
             wordSize++;
-            if (c == '-' || wordSize == LONGEST_WORD) {
-                endWord();
-            }
+        }
+
+        private boolean isWordFull() {
+            return wordSize > 0 && (word[wordSize - 1] == '-' || wordSize == LONGEST_WORD);
         }
 
         private void endWord() {
@@ -3872,11 +3878,7 @@ public final class TypeHouse {
             if (category == 1) {
                 state.openGroup(BRACES);
             } else if (category == 2) {
-                if (state.groups > 0 && state.groupKind[state.groups] == BOXED) {
-                    closeBox();
-                } else {
-                    closeGroup(BRACES);
-                }
+                closeGroup(BRACES);
             } else if (category == 10) {
                 if (mode() > INNER) {
                     addSpace();
