@@ -232,11 +232,8 @@ public final class TypeHouse {
         if (what < 16) {
             return loadFont(what, n);
         }
-        if (what == 16) {
-            return patterns.readPatterns(tape, n);
-        }
-        if (what == 17) {
-            return patterns.readTold(tape, n);
+        if (what < 18) {
+            return patterns.readText(tape, n, what == 17);
         }
         state.begin(ticks);
         file.begin();
@@ -337,6 +334,15 @@ public final class TypeHouse {
         }
         long nearest = times + product + (2 * left >= whole ? 1 : 0);
         return excess < 0 ? -nearest : nearest;
+    }
+
+    private static void putItem(int[] row, int i, int kind, int a, int b, int c, int d) {
+        int at = i * ITEM;
+        row[at] = kind;
+        row[at + 1] = a;
+        row[at + 2] = b;
+        row[at + 3] = c;
+        row[at + 4] = d;
     }
 
     private static boolean isSize(long v) {
@@ -597,21 +603,26 @@ public final class TypeHouse {
             return c >= 'A' && c <= 'Z' ? c - 'A' + 1 : 0;
         }
 
-        private int readPatterns(byte[] text, int n) {
+        /** Reads a text of patterns, or of told words: how many it has, or its fault, and then nothing is changed. */
+        private int readText(byte[] text, int n, boolean told) {
             int before = patterns;
+            int toldBefore = toldWords;
+            System.arraycopy(hyphens, 0, newHyphens, 0, toldWords);
             int found = 0;
             int i = skipSpaces(text, 0, n);
             while (i < n) {
                 int from = i;
-                i = spellPattern(text, i, n);
-                int fault = i < 0 ? 1 : keepPattern();
+                i = told ? spellTold(text, i, n) : spellPattern(text, i, n);
+                int fault = i < 0 ? 1 : told ? keepTold() : keepPattern();
                 if (fault != 0) {
                     patterns = before;
+                    toldWords = toldBefore;
                     return -100000 * fault - (fault == 1 ? -1 - i : from);
                 }
                 found++;
                 i = skipSpaces(text, i, n);
             }
+            System.arraycopy(newHyphens, 0, hyphens, 0, toldWords);
             for (int k = before; k < patterns; k++) {
                 int first = letters[starts[k]];
                 links[k] = heads[first];
@@ -699,26 +710,6 @@ public final class TypeHouse {
                 }
             }
             return true;
-        }
-
-        private int readTold(byte[] text, int n) {
-            int before = toldWords;
-            System.arraycopy(hyphens, 0, newHyphens, 0, before);
-            int found = 0;
-            int i = skipSpaces(text, 0, n);
-            while (i < n) {
-                int from = i;
-                i = spellTold(text, i, n);
-                int fault = i < 0 ? 1 : keepTold();
-                if (fault != 0) {
-                    toldWords = before;
-                    return -100000 * fault - (fault == 1 ? -1 - i : from);
-                }
-                found++;
-                i = skipSpaces(text, i, n);
-            }
-            System.arraycopy(newHyphens, 0, hyphens, 0, toldWords);
-            return found;
         }
 
         private int spellTold(byte[] text, int from, int n) {
@@ -2361,12 +2352,7 @@ public final class TypeHouse {
             if (itemCount >= PACKED_ITEMS) {
                 state.fail(2);
             }
-            int at = itemCount * ITEM;
-            items[at] = kind;
-            items[at + 1] = a;
-            items[at + 2] = b;
-            items[at + 3] = c;
-            items[at + 4] = d;
+            putItem(items, itemCount, kind, a, b, c, d);
             itemCount++;
         }
 
@@ -2675,21 +2661,12 @@ public final class TypeHouse {
             }
             int fill = State.glueOf(PARFILLSKIP);
             int[] v = state.value;
-            putItem(n, PENALTY, FORBIDDEN, 0, 0, 0);
-            putItem(n + 1, GLUE, v[fill], v[fill + 1], v[fill + 2], v[fill + 3]);
-            putItem(n + 2, PENALTY, FORCED, 0, 0, 0);
+            putItem(items, n, PENALTY, FORBIDDEN, 0, 0, 0);
+            putItem(items, n + 1, GLUE, v[fill], v[fill + 1], v[fill + 2], v[fill + 3]);
+            putItem(items, n + 2, PENALTY, FORCED, 0, 0, 0);
             last = n + 2;
             sumUp();
             findPlaces();
-        }
-
-        private void putItem(int i, int kind, int a, int b, int c, int d) {
-            int at = i * ITEM;
-            items[at] = kind;
-            items[at + 1] = a;
-            items[at + 2] = b;
-            items[at + 3] = c;
-            items[at + 4] = d;
         }
 
         private int widthOf(int at) {
@@ -2850,9 +2827,6 @@ public final class TypeHouse {
         }
 
         private void addNode(int place, int number, int fit, int former, long total) {
-            if (nodeCount > MOST_NODES) {
-                state.fail(2);
-            }
             int at = nodeCount * NODE;
             nodes[at] = place;
             nodes[at + 1] = number;
@@ -2899,9 +2873,12 @@ public final class TypeHouse {
                 }
             }
             alive = kept;
-            if (keyCount > 0) {
-                makeNodes(e);
-            } else if (isLast && kept == 0) {
+            boolean rescued = isLast && kept == 0 && keyCount == 0;
+            if (nodeCount + keyCount + (rescued ? 1 : 0) > MOST_NODES + 1) {
+                state.fail(2);
+            }
+            makeNodes(e);
+            if (rescued) {
                 addNode(e, nodes[rescue * NODE + 1] + 1, rescueFit, rescue, totals[rescue]);
             }
         }
@@ -3077,12 +3054,7 @@ public final class TypeHouse {
                 spilled = true;
                 return;
             }
-            int at = count * ITEM;
-            items[at] = kind;
-            items[at + 1] = a;
-            items[at + 2] = b;
-            items[at + 3] = c;
-            items[at + 4] = d;
+            putItem(items, count, kind, a, b, c, d);
             count++;
         }
 
@@ -3696,12 +3668,7 @@ public final class TypeHouse {
             if (openCount >= OPEN_ITEMS) {
                 state.fail(2);
             }
-            int at = openCount * ITEM;
-            open[at] = kind;
-            open[at + 1] = a;
-            open[at + 2] = b;
-            open[at + 3] = c;
-            open[at + 4] = d;
+            putItem(open, openCount, kind, a, b, c, d);
             openCount++;
         }
 
@@ -3722,10 +3689,10 @@ public final class TypeHouse {
                     state.fail(16);
                 }
                 if (width < state.length(LINESKIPLIMIT)) {
-                    addGlue(State.glueOf(LINESKIP));
-                } else {
-                    add(GLUE, (int) width, state.value[from + 1], state.value[from + 2], state.value[from + 3]);
+                    from = State.glueOf(LINESKIP);
+                    width = state.value[from];
                 }
+                add(GLUE, (int) width, state.value[from + 1], state.value[from + 2], state.value[from + 3]);
             }
             add(BOX, box, shift, 0, 0);
             listDepth[lists - 1] = boxes.depth[box];
