@@ -19,14 +19,24 @@ public final class TypeHouse {
     private static final int LOW = 0xffff;
 
     // The primitives' names in the order of their numbers: what belongs together is a range. _ is a space.
-    private static final String EXPANDED_NAMES =
-        "expandafter noexpand csname string number romannumeral the if ifcat ifx ifnum ifdim ifodd ifvmode ifhmode ifvoid iftrue iffalse ifcase else or fi ";
-    private static final String DONE_NAMES =
-        "relax endcsname begingroup endgroup end par char hskip hfil hfill vrule indent noindent - _ vskip vfil vfill hrule kern penalty raise lower moveleft moveright hbox vbox box copy ";
+    private static final String EXPANDED_NAMES = "expandafter noexpand csname string number romannumeral the ";
+    private static final String CONDITION_NAMES =
+        "if ifcat ifx ifnum ifdim ifodd ifvmode ifhmode ifvoid iftrue iffalse ifcase else or fi ";
+    private static final String PLAIN_NAMES = "relax endcsname begingroup endgroup end par ";
+    private static final String HORIZONTAL_NAMES = "char hskip hfil hfill vrule indent noindent - _ ";
+    private static final String VERTICAL_NAMES = "vskip vfil vfill hrule ";
+    private static final String BOX_NAMES = "kern penalty raise lower moveleft moveright hbox vbox box copy ";
     private static final String SETTING_NAMES =
         "setbox def edef gdef xdef let chardef font catcode advance multiply divide count dimen skip ";
-    private static final String QUANTITY_NAMES =
-        "pretolerance tolerance linepenalty hyphenpenalty exhyphenpenalty clubpenalty widowpenalty brokenpenalty interlinepenalty adjdemerits doublehyphendemerits finalhyphendemerits looseness hsize vsize parindent lineskiplimit maxdepth emergencystretch parskip baselineskip lineskip topskip leftskip rightskip parfillskip wd ht dp global ";
+    private static final String TOLERANCE_NAMES = "pretolerance tolerance ";
+    private static final String PENALTY_NAMES =
+        "linepenalty hyphenpenalty exhyphenpenalty clubpenalty widowpenalty brokenpenalty interlinepenalty ";
+    private static final String DEMERIT_NAMES =
+        "adjdemerits doublehyphendemerits finalhyphendemerits looseness ";
+    private static final String LENGTH_NAMES = "hsize vsize parindent lineskiplimit maxdepth emergencystretch ";
+    private static final String GLUE_NAMES =
+        "parskip baselineskip lineskip topskip leftskip rightskip parfillskip ";
+    private static final String LAST_NAMES = "wd ht dp global ";
 
     private static final int EXPANDAFTER = 0;
     private static final int NOEXPAND = 1;
@@ -376,9 +386,18 @@ public final class TypeHouse {
         private State() {
             Arrays.fill(heads, -1);
             learn(EXPANDED_NAMES);
-            learn(DONE_NAMES);
+            learn(CONDITION_NAMES);
+            learn(PLAIN_NAMES);
+            learn(HORIZONTAL_NAMES);
+            learn(VERTICAL_NAMES);
+            learn(BOX_NAMES);
             learn(SETTING_NAMES);
-            learn(QUANTITY_NAMES);
+            learn(TOLERANCE_NAMES);
+            learn(PENALTY_NAMES);
+            learn(DEMERIT_NAMES);
+            learn(LENGTH_NAMES);
+            learn(GLUE_NAMES);
+            learn(LAST_NAMES);
         }
 
         private void learn(String text) {
@@ -610,7 +629,7 @@ public final class TypeHouse {
             System.arraycopy(hyphens, 0, newHyphens, 0, toldWords);
             int found = 0;
             int i = skipSpaces(text, 0, n);
-            while (i < n) {
+            for (int guard = 0; guard < n && i < n; guard++) {
                 int from = i;
                 i = told ? spellTold(text, i, n) : spellPattern(text, i, n);
                 int fault = i < 0 ? 1 : told ? keepTold() : keepPattern();
