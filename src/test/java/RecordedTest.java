@@ -1,0 +1,62 @@
+import java.io.IOException;
+import java.nio.file.Files;
+import java.nio.file.Path;
+
+/** Promises 4, 6, 7, 8 and 9 on recorded runs, whose answers a second program worked out from the document. */
+public final class RecordedTest {
+    private static final Path RUNS = Path.of("src/test/data/runs.txt");
+
+    public static void main(String[] args) throws IOException {
+        House h = new House();
+        int line = 0;
+        for (String text : Files.readAllLines(RUNS)) {
+            line++;
+            String[] row = text.split(" ");
+            switch (row[0]) {
+                case "house":
+                    h = new House();
+                    break;
+                case "fuel":
+                    h.house.fuel(Integer.parseInt(row[1]));
+                    break;
+                case "end":
+                    due(line, "end", h.give(Integer.parseInt(row[1]), bytes(row[2])), row[3]);
+                    break;
+                default:
+                    due(line, "answer", h.give(18, bytes(row[1])), row[2]);
+                    compare(line, h.house, row);
+                    break;
+            }
+        }
+        House.close();
+    }
+
+    private static byte[] bytes(String hex) {
+        byte[] b = new byte[hex.length() / 2];
+        for (int i = 0; i < b.length; i++) {
+            b[i] = (byte) Integer.parseInt(hex.substring(2 * i, 2 * i + 2), 16);
+        }
+        return b;
+    }
+
+    private static void due(int line, String what, long got, String want) {
+        House.due(RUNS + ", line " + line + ", " + what, got, Long.parseLong(want));
+    }
+
+    private static void compare(int line, TypeHouse house, String[] row) {
+        for (int i = 0; i < 8; i++) {
+            due(line, "about " + i, house.about(i), row[3 + i]);
+        }
+        long counts = 0;
+        for (int k = 0; k < 256; k++) {
+            counts = 31 * counts + house.count(k);
+        }
+        due(line, "the counters together", counts, row[11]);
+        due(line, "size", house.size(), row[12]);
+        long file = 0;
+        for (int i = 0; i < house.size(); i++) {
+            file = 31 * file + house.out(i);
+        }
+        due(line, "the file's bytes together", file, row[13]);
+    }
+}
