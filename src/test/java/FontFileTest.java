@@ -61,6 +61,14 @@ public final class FontFileTest {
     }
 
     private static void parts() {
+        Metrics edge = plain();
+        edge.characters.set(0, new int[] {3, 16, 0, 0});
+        fault("the first character", edge, 6);
+        edge.characters.set(0, new int[] {1, 16, 1, 0});
+        fault("the first character's tag", edge, 7);
+        edge.characters.set(0, new int[] {1, 16, 0, 0});
+        edge.characters.set(93, new int[] {1, 16, 1, 0});
+        fault("the last character's tag", edge, 7);
         int[][] places = {{3, 16, 0, 0}, {1, 32, 0, 0}, {1, 2, 0, 0}, {1, 16, 4, 0}};
         for (int[] place : places) {
             Metrics m = plain();
@@ -161,6 +169,15 @@ public final class FontFileTest {
         House h = new House();
         House.due("a ligature without end", h.give(0, plain().start('a', 0).step(128, 'a', 3, 'a').bytes()), 0);
         House.due("is too many", h.run("\\font\\f=0 \\f\\hbox{aa}"), 200001);
+        // Twelve letters come between two a: 25 times of asking.
+        Metrics chain = plain().start('a', 0);
+        for (int i = 0; i < 12; i++) {
+            chain.step(i < 11 ? 0 : 128, i == 0 ? 'a' : 'A' + i - 1, 3, 'A' + i);
+        }
+        House.due("letters between", h.give(1, chain.bytes()), 0);
+        House.due("1000 times", h.run("\\font\\f=1 \\f\\hbox{" + "a".repeat(41) + "}"), 0);
+        House.due("items", h.house.about(3), 41 + 12 * 40);
+        House.due("1001 times", h.run("\\font\\f=1 \\f\\hbox{" + "a".repeat(41) + "z}"), 200001);
         House.due("one character is none", h.run("\\font\\f=0 \\f\\hbox{a}"), 0);
     }
 

@@ -13,6 +13,7 @@ public final class ReadingTest {
         definitions();
         quantities();
         limits();
+        ends();
         House.close();
     }
 
@@ -82,6 +83,7 @@ public final class ReadingTest {
         count("\\def\\a#1.{\\b#1}\\def\\b#1#2{\\count1=#1 }\\a{1}{2}.", 1);
         count("\\def\\a#1.{\\count1=3#1 }\\a.", 3);
         count("\\def\\a#1ab{\\count1=0#1 }\\a 1{}2ab", 1);
+        prints("\\def\\a#1#2xy{(#1)(#2)}\\a xyxy", "(x)(y)");
         prints("\\def\\a#1aab{(#1)}\\a aaab", "(a)");
         prints("\\def\\a#1ab{(#1)}\\a{ab}cab", "(abc)");
         prints("\\def\\a#1{\\def\\b##1{#1##1#1}}\\a x\\b y", "xyx");
@@ -100,6 +102,10 @@ public final class ReadingTest {
         run("\\csname\\relax\\endcsname", 600001);
         run("\\csname a", 900001);
         run("\\endcsname", 600001);
+        run("\\dp1", 600001);
+        run("\\ht1", 600001);
+        run("\\csname expandafter\\endcsname\\relax\\relax", 0);
+        prints("\\string\\expandafter", "\\expandafter");
         prints("\\catcode92=12 \\string", "\\string");
         prints("\\string\\abc\\string~\\string{\\string}", "\\abc~{}");
         prints("\\catcode`@=11 \\def\\a#1{\\ifcat#11y\\else n\\fi}\\expandafter\\a\\string @", "y");
@@ -136,6 +142,7 @@ public final class ReadingTest {
             prints("(\\ifcase" + n + " a\\or b\\or c\\else d\\fi)", "(" + (n < 0 || n > 2 ? "d" : "abc".charAt(n)) + ")");
         }
         prints("\\ifcase7 a\\or b\\fi\\ifcase1 \\iftrue\\or\\fi\\or b\\fi", "b");
+        prints("\\iffalse\\ifcase\\or\\else\\fi a\\else b\\fi", "b");
         prints("\\iffalse\\iftrue\\else\\fi a\\else b\\fi", "b");
         prints("\\iffalse\\if\\else\\fi\\else b\\fi", "b");
         prints("\\ifnum1>\\iftrue2 \\else a\\fi b\\else c\\fi", "c");
@@ -214,6 +221,17 @@ public final class ReadingTest {
         run("\\dimen1=1%", 900001);
         run("\\dimen1=1p%", 600001);
         run("\\dimen1=1xy", 600001);
+        run("\\dimen1=2147483648sp", 700001);
+        run("\\dimen1=2147483647sp", 700001);
+        run("\\kern1fil", 600001);
+        House.due("em without a font", new House().run("\\dimen1=3em\\count1=\\dimen1 "), 0);
+        Metrics few = new Metrics().plain();
+        few.parameters.subList(4, 6).clear();
+        House h = new House();
+        h.give(0, few.bytes());
+        House.due("a font without em", h.run("\\font\\f=0 \\f\\count1=5 \\dimen1=3em\\advance\\count1\\dimen1 "
+            + "\\dimen1=3ex\\advance\\count1\\dimen1 "), 0);
+        House.due("has 0 for it", h.house.count(1), 5);
         run("\\dimen1=p", 600001);
     }
 
@@ -221,6 +239,9 @@ public final class ReadingTest {
         count("\\skip1=1sp plus 2sp minus 3sp\\advance\\skip1 by 4sp plus 5sp minus 6sp\\count1=\\skip1 ", 5);
         run("\\skip1=1pt plus -1pt", 700001);
         run("\\skip1=1pt minus -1pt", 700001);
+        run("\\skip1=1pt minus 1fil", 600001);
+        prints("\\skip1=0pt plus1fil\\relax\\advance\\skip1 by0pt plus2fil\\relax"
+            + "\\setbox3\\hbox to30sp{\\hskip\\skip1 \\hfil}\\ifdim\\wd3=30sp y\\fi", "y");
         run("\\skip1=1pt plus 16384fil", 700001);
         run("\\skip1=1pt plus 16383.9999fil", 0);
         run("\\skip1=1pt plus 1pt\\skip2=-\\skip1 ", 700001);
@@ -276,6 +297,8 @@ public final class ReadingTest {
         run("\\global\\hbox{}", 600001);
         run("\\global\\f", 600001);
         run("\\global\\wd1", 600001);
+        run("\\global\\parfillskip=1pt", 0);
+        run("\\global\\setbox1\\hbox{}", 0);
         run("\\global", 900001);
         run("\\wd1", 600001);
         run("\\font\\a=16 ", 700001);
@@ -313,6 +336,27 @@ public final class ReadingTest {
         }
     }
 
+    /** The end of the source within anything that is not over. */
+    private static void ends() {
+        String[] open = {"\\if a%", "\\if%", "\\ifcat a%", "\\ifx a%", "\\ifx%", "\\ifnum1%", "\\ifnum1<%",
+            "\\ifdim1pt%", "\\ifcase%", "\\ifvoid%", "\\ifodd%", "\\expandafter%", "\\expandafter a%", "\\noexpand%",
+            "\\string%", "\\number%", "\\romannumeral-%", "\\the\\count%", "\\def%", "\\def\\a%", "\\def\\a#%",
+            "\\def\\a{%", "\\edef\\a{%", "\\edef\\a{#%", "\\def\\a#1{#%", "\\let%", "\\let\\a%", "\\let\\a=%",
+            "\\chardef\\a%", "\\chardef\\a=%", "\\font\\a%", "\\catcode%", "\\catcode1%", "\\catcode1=%", "\\count%",
+            "\\count1%", "\\dimen1=-%", "\\skip1=%", "\\skip1=1pt plus%", "\\skip1=1pt plus1%", "\\advance%",
+            "\\advance\\count1 by%", "\\kern%", "\\penalty%", "\\char%", "\\hskip%", "\\vskip%", "\\hbox to%", "\\hbox%",
+            "\\vbox%", "\\box%", "\\copy%", "\\setbox%", "\\setbox1%", "\\setbox1=%", "\\moveleft%", "\\moveleft1pt%",
+            "\\hrule width%", "\\global%", "\\global\\relax%", "\\count1=`%"};
+        for (String source : open) {
+            run(source, 900001);
+        }
+        String[] over = {"\\count1=1%", "\\count1=`a%", "\\dimen1=1pt%", "\\skip1=1pt%", "\\skip1=1pt plus1fil%",
+            "\\hrule%", "\\hrule width1pt%", "\\number1%", "\\char97%", "\\font\\a=0%", "\\box1%"};
+        for (String source : over) {
+            run(source, 0);
+        }
+    }
+
     private static void limits() {
         run("{".repeat(100) + "}".repeat(100), 0);
         run("{".repeat(101), 200001);
@@ -331,6 +375,9 @@ public final class ReadingTest {
         run("\\def\\a{" + "x".repeat(10000) + "}", 200001);
         run("\\def\\a#1{#1#1#1#1#1#1#1#1#1#1}\\a{" + "\\relax".repeat(1000) + "}", 0);
         run("\\def\\a#1{#1#1#1#1#1#1#1#1#1#1}\\a{" + "\\relax".repeat(1001) + "}", 200001);
+        run("\\def\\a#1{#1#1#1#1#1#1#1#1#1#1}\\a{" + "\\relax".repeat(2000) + "}", 200001);
+        run("\\def\\a#1{#1#1#1#1#1#1#1#1#1#1}\\expandafter\\relax\\a{" + "\\relax".repeat(1000) + "}", 200001);
+        run("\\def\\a#1{#1#1#1#1#1#1#1#1#1#1}\\expandafter\\relax\\a{" + "\\relax".repeat(999) + "}", 0);
         run(loop.replace("N", "99").replace("BODY", "\\font\\x=0 at\\count2sp "), 0);
         run(loop.replace("N", "100").replace("BODY", "\\font\\x=0 at\\count2sp "), 200001);
     }

@@ -91,6 +91,13 @@ public final class SettingTest {
         h.give(0, new Metrics().plain().start('b', 0).step(128, 'c', 0, 'X').bytes());
         House.due("a ligature", h.run("\\font\\f=0 \\f\\hsize1pt\\noindent abcde"), 0);
         House.due("a ligature", h.pages().get(0), "a 0 10 X 5 10 d 10 10 e 15 10");
+        // A word of 64 letters has no hyphens.
+        h.give(0, new Metrics().plain().bytes());
+        String letters = "abcd".repeat(16);
+        House.due("63 letters", h.run("\\font\\f=0 \\f\\hsize1pt\\noindent " + letters.substring(1)), 0);
+        House.due("63 letters", h.house.about(6), 14);
+        House.due("64 letters", h.run("\\font\\f=0 \\f\\hsize1pt\\noindent " + letters), 0);
+        House.due("64 letters", h.house.about(6), 0);
         // Without character 45 there are no hyphens.
         Metrics none = new Metrics().plain();
         none.characters.set('-' - 33, new int[] {0, 0, 0, 0});
@@ -150,6 +157,16 @@ public final class SettingTest {
         pages("\\hbox to 30pt{\\hskip0pt plus1fil a\\hskip0pt plus2fil}", "a 8.3333 10");
         pages("\\hbox to 30pt{\\hfil a\\hfill}", "a 0 10");
         pages("\\hbox to 30pt{\\hfil\\hfill a\\hskip0pt plus1filll}", "a 0 10");
+        // Sums of glue: the same order adds up, else the greater one is taken.
+        String sum = "\\skip1=0pt plus1FIRST\\relax\\advance\\skip1 by0pt plus2SECOND\\relax\\hbox to 45pt{\\hskip\\skip1 a"
+            + "\\hskip0pt plus1THIRD}";
+        pages(sum.replace("FIRST", "fil").replace("SECOND", "fil").replace("THIRD", "fil"), "a 30 10");
+        pages(sum.replace("FIRST", "fill").replace("SECOND", "fil").replace("THIRD", "fill"), "a 20 10");
+        pages(sum.replace("FIRST", "fil").replace("SECOND", "fill").replace("THIRD", "fil"), "a 40 10");
+        pages(sum.replace("FIRST", "filll").replace("SECOND", "pt").replace("THIRD", "filll"), "a 20 10");
+        pages("\\skip1=0pt plus1fil minus1pt\\multiply\\skip1 by3 \\hbox to 45pt{\\hskip\\skip1 a\\hfil}", "a 30 10");
+        pages("\\skip1=0pt plus4fil\\divide\\skip1 by2 \\hbox to 35pt{\\hskip\\skip1 a\\hfil}", "a 20 10");
+        pages("\\skip1=9pt plus1pt minus2pt\\multiply\\skip1 by2 \\hbox to 19pt{\\hskip\\skip1 a}", "a 14 10");
         pages("\\hbox to 7pt{a\\hskip4pt minus2pt b}", "a 0 10 b 7 10");
         about("\\hbox to 7pt{a\\hskip4pt minus2pt b}", 5, 1);
         about("\\hbox to 12pt{a\\hskip4pt minus2pt b}", 5, 0);
@@ -174,6 +191,7 @@ public final class SettingTest {
         run("\\box256 ", 700001);
         run("\\hbox\\relax \\relax{}", 0);
         run("\\let\\a={\\hbox\\a}", 0);
+        run("\\setbox1\\par", 600001);
         run("\\raise1pt\\relax", 1500001);
         run("\\hbox{\\raise1pt\\relax x}", 600001);
     }
@@ -231,6 +249,7 @@ public final class SettingTest {
         pages("\\vsize60pt\\vskip9pt\\hbox{a}\\kern9pt", "a 0 10");
         // A depth beyond the greatest one counts as length.
         pages("\\vsize12pt\\maxdepth0pt\\hbox{g}\\penalty0\\hbox{a}", "g 0 10", "a 0 10");
+        pages("\\vsize40pt\\baselineskip12pt plus4pt\\hbox{a}\\hbox{b}\\hbox{c}\\penalty-10000", "a 0 10 b 0 25 c 0 40");
         pages("\\topskip20pt\\hbox{a}", "a 0 20");
         pages("\\topskip2pt\\hbox{a}", "a 0 5");
         pages("\\hbox{g}\\hbox{a}", "g 0 10 a 0 22");
@@ -265,6 +284,33 @@ public final class SettingTest {
         code("\\topskip12pt\\hbox{a}\\hbox{a}\\hbox{a}", "164 243 171 97 161 150 97 161 147 97");
         code("\\font\\g=0 at 5pt\\hbox{a\\g b\\f c\\g d}", "159 243 171 97 243 172 98 171 99 172 100");
         code("\\hbox{\\vrule height1pt\\vrule height1pt}", "159 137 144 137");
+        code("\\hbox{a\\kern-8388608sp b\\kern8388607sp c}", "159 243 171 97 145 98 145 99");
+        code("\\hbox{a\\kern-8388609sp b\\kern-32769sp c\\kern-32768sp d}", "159 243 171 97 146 98 145 99 144 100");
+        House h = House.withFont();
+        for (int slot = 9; slot <= 15; slot++) {
+            h.give(slot, new Metrics().plain().bytes());
+        }
+        House.due("names of fonts", h.run("\\font\\a=9 \\font\\b=15 \\hbox{\\b x\\a y}"), 0);
+        String file = new String(h.file(), java.nio.charset.StandardCharsets.ISO_8859_1);
+        House.due("font 15, twice", file.split("\\x06font15", -1).length, 3);
+        House.due("font 9, twice", file.split("\\x05font9", -1).length, 3);
+        House.due("the last one first", file.lastIndexOf("font9") < file.lastIndexOf("font15") ? 1 : 0, 1);
+        StringBuilder many = new StringBuilder("\\hbox{");
+        for (int i = 1; i <= 70; i++) {
+            many.append("\\font\\x=0 at ").append(i).append("sp \\x a");
+        }
+        House.due("seventy fonts", h.run(many + "}"), 0);
+        byte[] b = h.file();
+        int at = b.length;
+        for (int i = b.length - 2; i > 0; i--) {
+            at = (b[i] & 255) == 235 && (b[i + 1] & 255) == 69 && (b[i + 2] & 255) == 'a' ? i : at;
+        }
+        House.due("a number above 63", at < b.length ? 1 : 0, 1);
+        Metrics large = new Metrics();
+        large.last = 255;
+        h.give(0, large.plain().bytes());
+        House.due("a character above 127", h.run("\\font\\f=0 \\f\\hbox{\\char200 \\char127 \\char128 }"), 0);
+        House.due("has two bytes", h.house.size(), 156);
         List<String> none = new Printed(House.ran("", 0).file()).codes;
         House.due("no codes without pages", none.size(), 0);
     }
