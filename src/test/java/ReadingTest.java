@@ -83,6 +83,8 @@ public final class ReadingTest {
         count("\\def\\a#1.{\\b#1}\\def\\b#1#2{\\count1=#1 }\\a{1}{2}.", 1);
         count("\\def\\a#1.{\\count1=3#1 }\\a.", 3);
         count("\\def\\a#1ab{\\count1=0#1 }\\a 1{}2ab", 1);
+        prints("\\def\\a#1#2#3#4#5#6#7#8#9{#9#8#7#6#5#4#3#2#1}\\a abcdefgh{ij}", "ijhgfedcba");
+        prints("\\def\\e{}\\def\\a#1.{\\def\\b{#1}\\ifx\\b\\e y\\fi}\\a{}.\\a.", "yy");
         prints("\\def\\a#1#2xy{(#1)(#2)}\\a xyxy", "(x)(y)");
         prints("\\def\\a#1aab{(#1)}\\a aaab", "(a)");
         prints("\\def\\a#1ab{(#1)}\\a{ab}cab", "(abc)");
@@ -268,6 +270,8 @@ public final class ReadingTest {
         run("{\\gdef\\a{}}\\a", 0);
         run("{\\catcode`a=14 }a", 0);
         run("{\\font\\g=0 \\g}\\g", 1100001);
+        count("\\font\\g=0 at 20pt{\\g}\\setbox1\\hbox{a}\\count1=\\wd1 ", 327680);
+        count("\\font\\g=0 at 20pt\\g\\setbox1\\hbox{a}\\count1=\\wd1 ", 655360);
         count("\\setbox1\\hbox{abc}{\\setbox1\\hbox{a}}\\count1=\\wd1 ", 983040);
         count("\\setbox1\\hbox{abc}{\\setbox2\\box1}\\count1=\\wd1 ", 0);
         count("\\setbox1\\hbox{abc}{\\global\\setbox1\\hbox{a}}\\count1=\\wd1 ", 327680);

@@ -146,6 +146,7 @@ public final class SettingTest {
         about("\\parindent0pt\\hsize36pt\\tolerance200 \\emergencystretch20pt aaa bbb cccccc d", 5, 0);
         // Penalties of lines: club and widow, and one that is just 0 is none.
         about("\\clubpenalty0 \\widowpenalty0 \\parindent0pt\\hsize5pt\\vsize15pt a b c", 1, 3);
+        pages("\\clubpenalty0 \\widowpenalty10000 \\parindent0pt\\hsize5pt\\vsize23pt a b c", "a 0 10", "b 0 10 c 0 22");
         about("\\clubpenalty10000 \\widowpenalty0 \\parindent0pt\\hsize5pt\\vsize15pt a b c", 1, 2);
     }
 
