@@ -2,7 +2,7 @@ import java.io.IOException;
 import java.nio.file.Files;
 import java.nio.file.Path;
 
-/** Promises 4, 6, 7, 8 and 9 on recorded runs, whose answers a second program worked out from the document. */
+/** Promises 4, 6, 7, 8 and 9 on recorded runs, whose answers a second, plainer program worked out. */
 public final class RecordedTest {
     private static final Path RUNS = Path.of("src/test/data/runs.txt");
 
