@@ -74,11 +74,16 @@ final class House {
         return new Printed(file()).pages;
     }
 
+    private static String brief(String what) {
+        int n = what.length();
+        return n <= 300 ? what : what.substring(0, 150) + " .. " + what.substring(n - 140);
+    }
+
     static void due(String what, long got, long want) {
         checks++;
         if (got != want) {
             wrong++;
-            System.out.println(what + ": " + got + ", due is " + want);
+            System.out.println(brief(what) + ": " + got + ", due is " + want);
         }
     }
 
@@ -86,7 +91,7 @@ final class House {
         checks++;
         if (!got.equals(want)) {
             wrong++;
-            System.out.println(what + ": " + got + "\n    due is " + want);
+            System.out.println(brief(what) + ": " + got + "\n    due is " + want);
         }
     }
 
