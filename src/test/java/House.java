@@ -100,6 +100,43 @@ final class House {
         due(source, String.join(" / ", ran(source, 0).pages()), String.join(" / ", pages));
     }
 
+    /** The x of all marks of a source, in sizes. */
+    static void dueX(String source, int... due) {
+        List<int[]> places = new Printed(ran(source, 0).file()).places;
+        due(source + " (marks)", places.size(), due.length);
+        for (int i = 0; i < due.length && i < places.size(); i++) {
+            due(source + " (x of mark " + i + ")", places.get(i)[0], due[i]);
+        }
+    }
+
+    /** The y of all marks of a source, in sizes. */
+    static void dueY(String source, int... due) {
+        List<int[]> places = new Printed(ran(source, 0).file()).places;
+        due(source + " (marks)", places.size(), due.length);
+        for (int i = 0; i < due.length && i < places.size(); i++) {
+            due(source + " (y of mark " + i + ")", places.get(i)[1], due[i]);
+        }
+    }
+
+    /** What a run of a source tells. */
+    static void dueAbout(String source, int what, int due) {
+        due(source + " (about " + what + ")", ran(source, 0).house.about(what), due);
+    }
+
+    /** A run with much fuel on a new house with the plain font. */
+    static House much(String source, int answer) {
+        House h = withFont();
+        h.house.fuel(200000);
+        due(source, h.run("\\font\\f=0 \\f " + source), answer);
+        return h;
+    }
+
+    /** A source that does something so often; counter 200 counts. */
+    static String loop(int n, String body) {
+        return "\\count200=0 \\def\\l{\\ifnum\\count200<" + n + " \\advance\\count200 by 1 " + body
+            + "\\expandafter\\l\\fi}\\l ";
+    }
+
     static void close() {
         System.out.println(checks + " checks, " + wrong + " wrong");
         if (wrong != 0) {
@@ -195,6 +232,8 @@ final class Metrics {
 final class Printed {
     final List<String> pages = new ArrayList<>();
     final List<String> codes = new ArrayList<>();
+    /** Of each mark x and y, in sizes. */
+    final List<int[]> places = new ArrayList<>();
     private final byte[] b;
     private int at = 0;
 
@@ -265,6 +304,9 @@ final class Printed {
         for (int op = b[at] & 255; op != 142; op = b[at] & 255) {
             at++;
             codes.add(String.valueOf(op));
+            if (op < 128 || op == 137) {
+                places.add(new int[] {h, v});
+            }
             if (op < 128) {
                 text.append((char) op).append(' ').append(points(h)).append(' ').append(points(v)).append(' ');
                 h += 327680;
