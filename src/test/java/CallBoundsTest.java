@@ -265,6 +265,13 @@ public final class CallBoundsTest {
             + "\\penalty0".repeat(125), "\\hsize1073741823sp\\noindent\\kern-1sp\\par", "\\hbox{a\\kern1000000001sp b}\\penalty-10000 "};
         String plain = "\\font\\f=0 \\f\\hsize30pt abc de fgh i-j kl\\-mn\\par\\def\\x{\\hbox{a}}\\x\\setbox3\\vbox{\\x\\x}\\box3 "
             + "\\font\\g=0 at5pt\\hbox to9pt{\\g xy}";
+        House often = House.withFont();
+        for (int i = 0; i < 60; i++) {
+            House.due("a name that does not end", often.run("\\csname " + "a".repeat(40) + "\\relax"), 600001);
+            House.due("macros", often.run("\\def\\a{" + "x".repeat(400) + "}"), 0);
+        }
+        House.due("a name", often.run("\\def\\abc{\\count1=5 }\\csname abc\\endcsname"), 0);
+        House.due("a name", often.house.count(1), 5);
         House first = House.withFont();
         House.due("a run", first.run(plain), 0);
         String due = seen(first.house);

@@ -191,6 +191,18 @@ public final class FontBoundsTest {
         fault("height and depth 15", m, 0);
         m.depths.remove(15);
         fault("depth 15 of 15", m, 6);
+        m.depths.add(Metrics.HALF / 4);
+        m.heights.set(14, Metrics.HALF / 8);
+        m.characters.set('b' - 33, new int[] {1, 15, 0, 0});
+        m.characters.set('c' - 33, new int[] {1, 14 * 16 + 15, 0, 0});
+        House h = new House();
+        House.due("a font", h.give(0, m.bytes()), 0);
+        House.due("heights and depths", h.run("\\font\\f=0 \\f\\setbox1\\hbox{b}\\setbox2\\hbox{c}\\count1=\\ht1 \\count2=\\dp1 "
+            + "\\count3=\\ht2 \\count4=\\dp2 "), 0);
+        int[] due = {0, 81920, 40960, 81920};
+        for (int i = 0; i < 4; i++) {
+            House.due("height and depth at their places", h.house.count(i + 1), due[i]);
+        }
     }
 
     private static void tags() {
@@ -224,6 +236,10 @@ public final class FontBoundsTest {
             fault("a next larger character " + end[0], m, end[1]);
         }
         Metrics m = plain();
+        m.widths.set(0, 1 << 24);
+        m.characters.set('m' - 33, new int[] {1, 16, 2, 127});
+        fault("none behind ec, whatever the first width is", m, 7);
+        m = plain();
         m.characters.set('n' - 33, new int[] {0, 16, 0, 0});
         m.characters.set('m' - 33, new int[] {1, 16, 2, 'n'});
         fault("within bc .. ec, but not there", m, 7);
@@ -311,6 +327,16 @@ public final class FontBoundsTest {
         fault("and no word is there", m, 9);
         m.program.set(0, new int[] {128, 'a', 0, 'b'});
         fault("128 goes no further", m, 0);
+        m = plain();
+        for (int i = 0; i < 300; i++) {
+            m.step(128, 'a', 0, 'b');
+        }
+        m.program.set(0, new int[] {200, 0, 1, 43});
+        m.program.set(299, new int[] {128, 'b', 0, 'c'});
+        fault("a jump to the last place of 300", m.start('a', 0), 0);
+        row("a jump to 299", m, "ab", "c 0");
+        m.program.set(0, new int[] {200, 0, 1, 44});
+        fault("a jump behind it", m, 9);
         fault("the last word must end it", plain().step(0, 'a', 0, 'b'), 9);
     }
 
@@ -341,6 +367,21 @@ public final class FontBoundsTest {
         Metrics m = plain();
         m.parameters.clear();
         fault("no parameters", m, 0);
+        m = plain();
+        m.recipes.add(new int[] {0, 0, 0, 'a'});
+        m.parameters.set(0, 200 << 24);
+        fault("the first parameter may be anything, also behind recipes", m, 0);
+        for (int check : new int[] {0, -1, Integer.MIN_VALUE, Integer.MAX_VALUE}) {
+            m = plain();
+            m.check = check;
+            House h = new House();
+            House.due("any check", h.give(0, m.bytes()), 0);
+            House.due("a run", h.run("\\font\\f=0 \\f\\hbox{a}"), 0);
+            int at = 15 + 46 + 4 + 2;
+            for (int i = 0; i < 4; i++) {
+                House.due("it is in the file", h.house.out(at + i), check >> 24 - 8 * i & 255);
+            }
+        }
     }
 
     /** What makes fault k and leaves the ones before it alone; all from one k on stand together. */
@@ -467,6 +508,24 @@ public final class FontBoundsTest {
         row("a skip above 128 on the way: nothing is found", middle, "ab", "a 0 b 5");
         Metrics over = plain().start('a', 0).step(1, 'x', 0, 'y').step(129, 'b', 0, 0).step(128, 'b', 0, 'E');
         row("but a word may be skipped", over, "ab", "E 0");
+        Metrics zero = plain().step(255, 0, 0, 0).start('a', 1).step(128, 0, 0, 'E');
+        row("the edge may be 0", zero, "aa", "a 0 E 5");
+        Metrics begins = plain().start('a', 0).step(129, 0, 0, 1).step(128, 'b', 0, 'E');
+        row("a program that begins where skip is 129 begins elsewhere", begins, "ab", "E 0");
+        Metrics begun = plain().start('a', 0).step(128, 'b', 0, 'E').step(128, 'b', 0, 'F');
+        row("where skip is 128 it begins there", begun, "ab", "E 0");
+        Metrics far = plain().start('a', 0);
+        for (int i = 0; i < 130; i++) {
+            far.step(128, 'b', 0, 'F');
+        }
+        far.program.set(0, new int[] {127, 'x', 0, 'y'});
+        row("a skip of 127 goes on 128 places further", far, "ab", "F 0");
+        far.program.set(0, new int[] {128, 'x', 0, 'y'});
+        row("a skip of 128 goes no further", far, "ab", "a 0 b 5");
+        row("u is 1", plain().start('a', 0).start('c', 1).start('d', 2).step(128, 'b', 4, 'c').step(128, 'd', 0, 'X')
+            .step(128, 'e', 0, 'Y'), "abde", "c 0 Y 5");
+        row("u is 2", plain().start('a', 0).start('c', 1).start('d', 2).step(128, 'b', 8, 'c').step(128, 'd', 0, 'X')
+            .step(128, 'e', 0, 'Y'), "abde", "c 0 d 5 e 10");
         Metrics last = plain().start('a', 0).step(128, 'b', 31 * 4 + 3, 'c');
         row("up to the last place if there are not so many", last, "ab", "a 0 c 5 b 10");
         row("i grows by u", plain().start('a', 0).start('c', 1).start('b', 2).step(128, 'b', 11, 'c')

@@ -193,7 +193,8 @@ public final class LineBoundsTest {
         House.due("one more", bad(1291, 297), 10000);
         long[][] rows = {{0, 0}, {0, 5}, {1, 0}, {1, 1}, {100, 297}, {1290, 297}, {1291, 297}, {1290, 298}, {7230584, 1663497},
             {7230584, 1663496}, {7230585, 1663497}, {7230585, 1663496}, {7230585, 1664495}, {7230584, 7230584},
-            {7230585, 7230585}, {90000000, 90000296}, {100000000, 23023255}, {100000000, 23023254}, {2, 1000}, {40, 297}, {41, 297}};
+            {7230585, 7230585}, {90000000, 90000296}, {100000000, 23023255}, {100000000, 23023254}, {2, 1000}, {40, 297}, {41, 297},
+            {594, 297}, {866, 297}, {359, 297}, {902, 297}};
         for (long[] row : rows) {
             badness(row[0], row[1], false);
         }
@@ -495,6 +496,29 @@ public final class LineBoundsTest {
     }
 
     private static void lineBoxes() {
+        // leftskip, rightskip and parfillskip give and take in each line what they have.
+        String line = "\\parindent0pt\\hsize105pt";
+        House.duePages(line + "\\leftskip0pt plus1fil a", "a 50 10");
+        House.duePages(line + "\\leftskip0pt plus1fil\\rightskip0pt plus1fil\\parfillskip0pt a", "a 50 10");
+        House.duePages(line + "\\leftskip0pt plus3fil\\rightskip0pt plus1fil\\parfillskip0pt a", "a 75 10");
+        House.duePages(line + "\\leftskip0pt plus1fill\\rightskip0pt plus1fil\\parfillskip0pt a", "a 100 10");
+        House.duePages(line + "\\leftskip0pt plus1fil\\rightskip0pt plus1fill\\parfillskip0pt a", "a 0 10");
+        House.duePages(line + "\\leftskip0pt plus1fil\\parfillskip0pt plus3fil a", "a 25 10");
+        House.duePages(line + "\\leftskip0pt plus1fil\\parfillskip0pt plus1fill a", "a 0 10");
+        House.duePages(line + "\\leftskip0pt plus1pt\\parfillskip5pt plus1pt a", "a 47.5 10");
+        line = "\\parindent0pt\\hsize15pt";
+        House.duePages(line + "\\leftskip10pt minus10pt\\parfillskip10pt minus10pt a", "a 5 10");
+        House.duePages(line + "\\leftskip10pt minus10pt\\parfillskip10pt minus30pt a", "a 7.5 10");
+        House.duePages(line + "\\leftskip10pt minus10pt\\parfillskip0pt\\rightskip10pt minus30pt a", "a 7.5 10");
+        // The hyphen at the end of a line is that of its font.
+        Metrics m = new Metrics().plain();
+        m.characters.set(',' - 33, new int[] {2, 16, 0, 0});
+        House h45 = new House();
+        h45.give(0, m.bytes());
+        House.due("a hyphen", h45.run("\\font\\f=0 \\font\\g=0 at5pt\\f\\leftskip0pt plus1fil\\pretolerance-1 \\hyphenpenalty-10000 "
+            + "\\parindent0pt\\hsize100pt\\parfillskip0pt\\noindent\\vrule height1pt width1pt\\g\\-\\f\\-\\vrule height1pt\\par"), 0);
+        // The reader of files takes each character as 5pt wide, so what comes behind the first hyphen is 2.5pt further right.
+        House.due("hyphens of 2.5pt and 5pt", h45.pages().get(0), "rule 96.5 10 1 1 - 97.5 10 - 97.5 22 rule 102.1 34 0.4 1");
         House.dueCount("\\hsize50pt\\setbox1\\vbox{\\noindent a}\\count1=\\wd1 ", 3276800);
         about("\\leftskip0pt\\rightskip0pt\\noindent a", 3, 4);
         about("\\leftskip1pt plus1fil\\noindent a\\-a\\penalty5 a", 3, 6);

@@ -414,6 +414,19 @@ public final class ListBoundsTest {
     }
 
     private static void sizesBelow() {
+        House.dueCount("\\setbox1\\vbox{\\hrule width9sp\\hbox{\\kern8sp}}\\count1=\\wd1 ", 9);
+        House.duePages("\\vbox{\\moveright3pt\\hbox{a}\\moveleft3pt\\hbox{b}}", "a 3 5 b -3 17");
+        House.duePages("\\topskip0pt\\vbox{\\hbox{g}\\hrule height1pt width1pt depth2pt\\hrule height1pt width1pt}",
+            "g 0 5 rule 0 10.5 1 3 rule 0 11.5 1 1");
+        House.duePages("\\topskip0pt\\vbox{\\hbox{g}\\kern1pt\\hrule height1pt width1pt}", "g 0 5 rule 0 9.5 1 1");
+        House.duePages("\\topskip0pt\\vbox{\\hbox{g}\\vskip1pt\\hrule height1pt width1pt}", "g 0 5 rule 0 9.5 1 1");
+        // A character's height is another size than its width.
+        Metrics low = new Metrics().plain();
+        low.heights.set(1, Metrics.HALF / 2);
+        House h = new House();
+        h.give(0, low.bytes());
+        House.due("low characters", h.run("\\font\\f=0 \\f\\hbox{ab\\vrule width1pt c}"), 0);
+        House.due("low characters", h.pages().get(0), "a 0 10 b 5 10 rule 10 10 1 2.5 c 11 10");
         String box = "\\setbox1\\vbox{\\hrule height3sp depth2sp width7sp\\hrule height4sp depth1sp\\moveright2sp\\hbox{\\kern6sp}"
             + "\\kern5sp\\hrule height1sp depth9sp}";
         House.dueCount(box + "\\count1=\\ht1 ", 3 + 2 + 4 + 1 + 0 + 0 + 5 + 1);

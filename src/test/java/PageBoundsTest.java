@@ -171,6 +171,9 @@ public final class PageBoundsTest {
     }
 
     private static void set() {
+        // parskip has 65536 of stretch at first: as much as the other glue.
+        House.dueY("\\parindent0pt\\vsize40pt\\hbox{a}\\noindent b\\par\\penalty10000 \\vskip0pt plus65536sp\\hrule height1pt width1pt"
+            + "\\penalty-10000 ", 655360, 1998848, 2621440);
         String head = "\\baselineskip0pt\\lineskip0pt\\lineskiplimit-99pt\\hbox{a}\\penalty10000 ";
         String end = "\\hbox{c}\\penalty-10000 ";
         pages("\\vsize40pt" + head + "\\vskip0pt plus1pt\\hbox{b}\\penalty10000 \\vskip0pt plus2pt" + end, "a 0 10 b 0 20 c 0 40");

@@ -240,6 +240,15 @@ public final class TextBoundsTest {
         breaks("d1ef.", "", "abcdef", "abcdef");
         breaks("c1def.", "", "abcdef", "abc- def");
         breaks("c1de.", "", "abcdef", "abcdef");
+        // All its letters must be there, and each pattern has its own numbers.
+        breaks("b1x", "", "abcde", "abcde");
+        breaks("b1cdx", "", "abcde", "abcde");
+        breaks("b1xde", "", "abcde", "abcde");
+        breaks("x1y bc", "", "abcde", "abcde");
+        breaks("b1c b3cd b2cde", "", "abcde", "ab- cde");
+        breaks("b2c b1cd b2cde", "", "abcde", "abcde");
+        breaks("q1r b2c x9y9z", "", "abcdefghi", "abcdefghi");
+        breaks("x9y9z b2c", "", "abcdefghi", "abcdefghi");
         // Told words come before patterns, for words that are just these.
         breaks("b1c", "abcde", "abcde", "abcde");
         breaks("b1c", "abcde", "ABCDE", "ABCDE");
@@ -253,6 +262,9 @@ public final class TextBoundsTest {
         h.house.clear(false);
         House.due("patterns that went", lines(h, "xbcdef"), "xbcdef");
         House.due("told words are there still", lines(h, "abcdef"), "abc- def");
+        House.due("a faulty text", h.give(TOLD, "ab-cdef -"), -100008);
+        House.due("and one more", h.give(TOLD, "x-yz"), 1);
+        House.due("nothing came of the former", lines(h, "abcdef"), "abc- def");
         h.give(PATTERNS, "b1c");
         h.house.clear(true);
         House.due("told words that went", lines(h, "abcdef"), "ab- cdef");
@@ -276,6 +288,21 @@ public final class TextBoundsTest {
         breaks("b1c", "", "abcde-abcde", "abcde- ab- cde");
     }
 
+    /** The word abcde with a pattern between b and c, in a font that sets it otherwise than its parts. */
+    private static void noHyphen(Metrics m, String letters) {
+        House h = new House();
+        h.give(PATTERNS, "b1c");
+        House.due("a font", h.give(0, m.bytes()), 0);
+        House.due(letters, h.run("\\font\\f=0 \\f\\hsize1pt\\noindent abcde"), 0);
+        StringBuilder due = new StringBuilder();
+        int x = 0;
+        for (String letter : letters.split(" ")) {
+            due.append(due.isEmpty() ? "" : " ").append(letter).append(" ").append(x).append(" 10");
+            x += 5;
+        }
+        House.due(letters, h.pages().get(0), due.toString());
+    }
+
     private static void kernsAndLigatures() {
         House h = new House();
         h.give(PATTERNS, "b1c c1d");
@@ -285,6 +312,22 @@ public final class TextBoundsTest {
         House.due("a ligature", h.run("\\font\\f=0 \\f\\hsize1pt\\noindent abcdef"), 0);
         House.due("no hyphen where the items are others", h.pages().get(0),
             "a 0 10 Q 5 10 c 10 10 - 15 10 d 0 22 e 5 22 f 10 22");
+        // A character for c, behind b alone; characters or more than a kern between b and c; b twice. No hyphen comes there.
+        Metrics other = new Metrics().plain().start('b', 0).step(128, 'c', 2, 'Q');
+        noHyphen(other, "a b Q d e");
+        Metrics between = new Metrics().plain().start('b', 0).step(128, 'c', 3, 'Q');
+        noHyphen(between, "a b Q c d e");
+        Metrics least = new Metrics();
+        least.first = 0;
+        noHyphen(least.plain().start('b', 0).step(128, 'c', 3, 0), "a b \0 c d e");
+        Metrics two = new Metrics().plain().start('b', 0).start('Q', 1).step(128, 'c', 3, 'Q').step(128, 'c', 128, 0);
+        two.kerns.add(0);
+        noHyphen(two, "a b Q c d e");
+        Metrics common = new Metrics().plain().start('b', 1).step(128, 'c', 0, 'b').step(128, 'c', 0, 'b').step(255, 0, 0, 0);
+        noHyphen(common, "a b d e");
+        Metrics front = new Metrics().plain().step(255, 'Z', 0, 0).start('a', 1).start('c', 2).step(128, 'b', 0, 'c')
+            .step(0, 'c', 0, 'c').step(128, 'Z', 3, 'c');
+        noHyphen(front, "c d e");
         // Too much asking for a part alone leaves no hyphen there: at the edge behind b it has no end.
         Metrics endless = new Metrics().plain().step(255, 'Z', 0, 0).start('b', 1).step(128, 'Z', 3, 'b');
         House.due("a font", h.give(0, endless.bytes()), 0);

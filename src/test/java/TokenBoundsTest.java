@@ -113,6 +113,9 @@ public final class TokenBoundsTest {
         // 13.
         count("\\catcode`!=13 \\def!{\\count1=4 }!", 4);
         count("\\catcode`!=13 \\def!{7}\\count1=1! !", 17);
+        count("\\catcode0=13 \\def\0{\\count1=5 }\0", 5);
+        run("\\catcode0=13 \\csname\0\\endcsname", 600001);
+        count("\\catcode255=13 \\def\u00ff{\\count1=5 }\u00ff", 5);
         run("~", 1100001);
         // The category is that when the character is read, and stays with the token.
         count("\\def\\a{\\catcode`!=14 \\count1=1!2}\\catcode`!=12 \\def\\b#1{\\catcode`#1=14 \\count1=1}\\b!2", 12);
@@ -136,6 +139,7 @@ public final class TokenBoundsTest {
         count("\\def\\1#1;{\\count1=1#1}\\1 5;", 1);
         count("\\def\\ #1;{\\count1=1#1}\\  5;", 15);
         count("\\catcode13=0 \\expandafter\\def\\csname\\endcsname{\\count1=2 }%\n\n\\end", 2);
+        count("\\count1=`\\\n\\relax", 13);
         // Letters are what has category 11 then.
         count("\\catcode`!=11 \\def\\a!{\\count1=7 }\\a!", 7);
         count("\\catcode13=11 \\def\\a\n{\\count1=8 }%\n\\a\n\\end%", 8);
@@ -177,6 +181,9 @@ public final class TokenBoundsTest {
         run(ten + "\\a{" + thousand + "\\relax}", 200001);
         run(ten + "\\def\\b#1{\\a{#1}\\relax}\\b{" + thousand + "}", 200001);
         run(ten + "\\def\\b#1{\\a{#1}}\\b{" + thousand + "}", 0);
+        run(ten + "\\def\\b#1{\\a{#1}" + "\\relax".repeat(200) + "}\\b{" + thousand + "}", 200001);
+        run("\\def\\a#1{" + "#1".repeat(9) + "\\relax".repeat(1000) + "}\\a{" + thousand + "}", 0);
+        run("\\def\\a#1{" + "#1".repeat(9) + "\\relax".repeat(1500) + "}\\a{" + thousand + "}", 200001);
         run(ten + "\\expandafter\\relax\\a{" + "\\relax".repeat(999) + "}", 0);
         run(ten + "\\expandafter\\relax\\a{" + thousand + "}", 200001);
         // 9997 tokens behind a number of three digits are 10000, of four digits one more.
@@ -348,6 +355,9 @@ public final class TokenBoundsTest {
         run("\\edef\\a{\\fi}", 800001);
         run("\\edef\\a{\\iftrue x\\else y\\fi}\\def\\b{x}\\ifx\\a\\b\\else\\u\\fi", 0);
         // Spaces before the name are dropped; a name that is marked is a name.
+        run("\\def\\s{ }\\expandafter\\def\\s\\a{\\u}\\a", 1100001);
+        run("\\def\\s{ }\\expandafter\\let\\s\\a=\\u\\a", 1100001);
+        run("\\def\\s{ }\\expandafter\\let\\expandafter\\a\\s\\s\\ifx\\a\\s\\else\\u\\fi", 0);
         run("\\catcode`!=10 \\catcode`;=12 \\def!\\a{\\u}\\a", 1100001);
         run("\\def\\a{}\\expandafter\\def\\noexpand\\a{\\u}\\a", 1100001);
         // Delimiters may have spaces, braces end them.
@@ -410,6 +420,11 @@ public final class TokenBoundsTest {
         run("\\csname " + "a".repeat(39) + " \\endcsname", 0);
         run("\\csname " + "a".repeat(40) + " \\endcsname", 200001);
         run("\\csname a%", 900001);
+        count("\\def\\b{x}\\def\\axc{\\count1=6 }\\csname a\\csname b\\endcsname c\\endcsname", 6);
+        run("\\def\\b{x}\\csname " + "a".repeat(38) + "\\csname b\\endcsname c\\endcsname", 0);
+        run("\\def\\b{x}\\csname " + "a".repeat(38) + "\\csname b\\endcsname cc\\endcsname", 200001);
+        run("\\expandafter\\def\\csname " + "b".repeat(40) + "\\endcsname{x}\\csname " + "a".repeat(38) + "\\csname "
+            + "b".repeat(40) + "\\endcsname c\\endcsname", 0);
         count("\\count1=1{\\csname q\\endcsname\\ifx\\q\\relax\\global\\advance\\count1 by 1 \\fi}\\ifx\\q\\undefined"
             + "\\advance\\count1 by 10 \\fi", 12);
         count("\\count1=5 {\\csname count\\endcsname1=6 }", 5);
@@ -501,6 +516,13 @@ public final class TokenBoundsTest {
         run("\\ifnum1   =1\\fi", 0);
         run("\\ifdim1pt;1pt\\fi", 600001);
         run("\\ifdim1=1pt\\fi", 600001);
+        for (int a = 0; a < 3; a++) {
+            for (String relation : new String[] {"<", "=", ">"}) {
+                boolean holds = relation.equals("<") ? a < 1 : relation.equals("=") ? a == 1 : a > 1;
+                count("\\ifnum" + a + relation + "1 \\count1=1 \\else\\count1=2 \\fi", holds ? 1 : 2);
+                count("\\ifdim" + a + "sp" + relation + "1sp \\count1=1 \\else\\count1=2 \\fi", holds ? 1 : 2);
+            }
+        }
         count("\\ifnum-2147483647<2147483647 \\count1=1 \\fi", 1);
         count("\\ifnum2147483647>-2147483647 \\count1=1 \\fi", 1);
         count("\\ifdim-1073741823sp<1073741823sp\\count1=1 \\fi", 1);
@@ -525,6 +547,19 @@ public final class TokenBoundsTest {
         count("\\ifcat$$" + same, 1);
         count("\\if{\\string{" + same, 1);
         count("\\ifcat{\\string{" + same, 2);
+        for (char c : new char[] {1, 16, 17, 255}) {
+            count("\\if\\relax" + c + same, 2);
+        }
+        count("\\if bc" + same, 2);
+        count("\\if ab" + same, 2);
+        count("\\if a!" + same, 2);
+        String[] kinds = {"\\A", "\\B", "\\C", "\\D", "\\E", "\\F", "\\G", "\\s", "\\H", "\\I", "\\relax"};
+        for (String one : kinds) {
+            for (String other : kinds) {
+                count("\\let\\A={\\let\\B=}\\let\\C=$\\let\\D=&\\let\\E=#\\let\\F=^\\let\\G=_\\let\\H=a\\let\\I=1\\def\\s{ }\\ifcat" + one
+                    + other + same, one.equals(other) ? 1 : 2);
+            }
+        }
         // ifx.
         count("\\ifx\\u\\v" + same, 1);
         count("\\ifx~\\v" + same, 1);
@@ -540,6 +575,8 @@ public final class TokenBoundsTest {
         count("\\def\\x#1a{b}\\def\\y#1{ab}\\ifx\\x\\y" + same, 2);
         count("\\def\\x#1#2{#1}\\def\\y#1#2{#2}\\ifx\\x\\y" + same, 2);
         count("\\def\\x{ab}\\def\\y{a}\\ifx\\x\\y" + same, 2);
+        count("\\def\\x{ab}\\def\\y{bb}\\ifx\\x\\y" + same, 2);
+        count("\\def\\x{ab}\\def\\y{aa}\\ifx\\x\\y" + same, 2);
         count("\\def\\x{}\\gdef\\y{}\\ifx\\x\\y" + same, 1);
         count("\\let\\x=\\def\\ifx\\x\\def" + same, 1);
     }
@@ -571,6 +608,9 @@ public final class TokenBoundsTest {
         run("\\if a\\else\\fi", 0);
         count("\\count1=1\\ifx\\fi\\fi2\\fi\\relax", 12);
         count("\\count1=1\\iftrue2\\else3\\fi4 ", 124);
+        // Also where another condition has been before.
+        count("\\iftrue\\fi\\ifnum1=2\\else\\count1=5 \\fi", 5);
+        count("\\iffalse\\else\\fi\\ifcase1\\or\\count1=5 \\fi", 5);
         run("\\iftrue{\\else}\\fi", 900001);
         run("\\iftrue{\\else\\fi}", 0);
         run("\\let\\x=\\fi\\iftrue\\x", 0);

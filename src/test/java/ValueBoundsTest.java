@@ -8,6 +8,7 @@ public final class ValueBoundsTest {
         characterNumbers();
         values();
         registers();
+        apart();
         keywords();
         factors();
         units();
@@ -87,6 +88,11 @@ public final class ValueBoundsTest {
         count("\\count1=5\\advance\\count1 by 1 ", 6);
         House.due("two spaces in a line: one stays", House.ran("\\hbox{\\count1=5\\ifnum1=1 \\fi\\space}", 1100001)
             .house.about(2), 0);
+        // The characters beside the digits are none.
+        count("\\count1=1:", 1);
+        count("\\count1=1/", 1);
+        run("\\count1=:", 600001);
+        run("\\count1=/", 600001);
         run("\\count1=a", 600001);
         run("\\count1=.5", 600001);
         run("\\count1={5}", 600001);
@@ -191,6 +197,38 @@ public final class ValueBoundsTest {
         run("\\chardef\\x=-1 ", 700001);
     }
 
+    /** Each quantity is another one. */
+    private static void apart() {
+        String[] counters = {"pretolerance", "tolerance", "linepenalty", "hyphenpenalty", "exhyphenpenalty", "clubpenalty",
+            "widowpenalty", "brokenpenalty", "interlinepenalty", "adjdemerits", "doublehyphendemerits", "finalhyphendemerits",
+            "looseness"};
+        String[] lengths = {"hsize", "vsize", "parindent", "lineskiplimit", "maxdepth", "emergencystretch"};
+        String[] glue = {"parskip", "baselineskip", "lineskip", "topskip", "leftskip", "rightskip", "parfillskip"};
+        StringBuilder set = new StringBuilder();
+        StringBuilder look = new StringBuilder();
+        int value = 1000;
+        for (int i = 0; i < 256 + counters.length; i++) {
+            String name = i < 256 ? "\\count" + i : "\\" + counters[i - 256];
+            set.append(name).append("=").append(++value).append(" ");
+            look.append("\\T").append(name).append("=").append(value).append(" ");
+        }
+        for (int i = 0; i < 256 + lengths.length; i++) {
+            String name = i < 256 ? "\\dimen" + i : "\\" + lengths[i - 256];
+            set.append(name).append("=").append(++value).append("sp");
+            look.append("\\T").append(name).append("=").append(value).append(" ");
+        }
+        for (int i = 0; i < 256 + glue.length; i++) {
+            String name = i < 256 ? "\\skip" + i : "\\" + glue[i - 256];
+            set.append(name).append("=").append(++value).append("sp plus9fil minus8sp");
+            look.append("\\T").append(name).append("=").append(value).append(" ");
+        }
+        String test = "\\def\\T{\\F\\ifnum}\\def\\F#1 {#1 \\else\\u\\fi}";
+        run(test + set + "\\relax" + look, 0);
+        run(test + set + "\\catcode0=12 \\catcode255=13 \\setbox0\\hbox{}\\setbox255\\hbox{}\\def~{}" + look, 0);
+        run(test + "{" + set + "}" + "\\T\\count255=0 \\T\\dimen0=0 \\T\\skip255=0 \\T\\hsize=26214400 \\T\\looseness=0 "
+            + "\\T\\parfillskip=0 \\T\\parskip=0 \\T\\emergencystretch=0 \\T\\pretolerance=100 \\T\\count0=0 ", 0);
+    }
+
     private static void keywords() {
         dimen("1PT", 65536);
         dimen("1pT", 65536);
@@ -236,6 +274,9 @@ public final class ValueBoundsTest {
         badDimen("2147483648sp", 7);
         badDimen("2147483648\u007f", 7);
         badDimen("2147483647.00000", 7);
+        badDimen("2147483647xx", 6);
+        badDimen("2147483648xx", 7);
+        badDimen("2147483647.9999xx", 6);
         // Or what a number may be that has no digits.
         dimen("`\\%sp", 37);
         dimen("`\\% sp", 37);
@@ -439,6 +480,9 @@ public final class ValueBoundsTest {
         run("\\divide\\dimen1 by 0 ", 700001);
         run("\\multiply\\dimen1 by 2pt", 0);
         run("\\advance\\dimen1 by 2 ", 900001);
+        for (String length : new String[] {"hsize", "vsize", "parindent", "lineskiplimit", "maxdepth", "emergencystretch", "dimen0"}) {
+            House.due(length + " has no stretch", House.ran("\\hbox{\\" + length + "=1pt plus1pt}", 0).house.about(3), 7);
+        }
         run("\\advance\\hsize by -\\hsize\\ifdim\\hsize=0pt\\else\\u\\fi", 0);
     }
 
@@ -466,6 +510,14 @@ public final class ValueBoundsTest {
         String gone = "\\skip1=0pt plus1fill\\divide\\skip1 by 65537 \\advance\\skip1 by 0pt plus1pt\\relax";
         House.duePages(gone + "\\hbox to20pt{\\hskip0pt plus1pt\\vrule height1pt width0.5pt\\hskip\\skip1}",
             "rule 9.75 10 0.5 1");
+        String bare = "\\skip1=0pt\\advance\\skip1 by 0pt plus1pt\\relax";
+        House.duePages(bare + "\\hbox to20pt{\\hskip0pt plus1pt\\vrule height1pt width0.5pt\\hskip\\skip1}",
+            "rule 9.75 10 0.5 1");
+        // A stretch that is a length, or glue, is of order 0.
+        for (String length : new String[] {"\\hsize", "\\parfillskip", "\\baselineskip"}) {
+            String stretch = "\\parfillskip1pt plus1fil\\skip1=0pt plus1fill\\skip1=0pt plus" + length + "\\relax";
+            House.duePages(stretch + "\\hbox to20pt{\\hskip\\skip1 \\vrule height1pt width0.5pt\\hfil}", "rule 0 10 0.5 1");
+        }
         String none = "\\skip1=0pt plus0filll\\advance\\skip1 by 0pt plus1pt\\relax";
         House.duePages(none + "\\hbox to20pt{\\hskip0pt plus1pt\\vrule height1pt width0.5pt\\hskip\\skip1}",
             "rule 9.75 10 0.5 1");
@@ -607,6 +659,18 @@ public final class ValueBoundsTest {
     }
 
     private static void mostGroups() {
+        // 99 groups with 40 counters each that are set in all of them.
+        StringBuilder all = new StringBuilder("\\def\\s{");
+        for (int i = 1; i <= 40; i++) {
+            all.append("\\advance\\count").append(i).append(" by ").append(i).append(" ");
+        }
+        all.append("}\\s");
+        count(all + "{\\s".repeat(99) + "}".repeat(99), 1);
+        House deep = House.ran(all + "{\\s".repeat(99) + "}".repeat(60) + "\\global\\count41=\\count40 " + "}".repeat(39), 0);
+        House.due("counter 40 within 39 groups", deep.house.count(41), 40 * 40);
+        House.due("counter 40 outside", deep.house.count(40), 40);
+        House left = House.ran(all + "{\\s".repeat(99), 900001);
+        House.due("counter 40 outside of all groups", left.house.count(40), 40);
         run("{".repeat(100) + "}".repeat(100), 0);
         run("{".repeat(101), 200001);
         run("\\begingroup".repeat(100) + "\\endgroup".repeat(100), 0);
@@ -628,6 +692,7 @@ public final class ValueBoundsTest {
         count("\\setbox1\\hbox{a}\\setbox1\\copy2\\count1=\\wd1 ", 0);
         count("\\setbox1\\hbox{a}{\\setbox1\\box2}\\count1=\\wd1 ", 327680);
         count("\\setbox1\\hbox{a}\\setbox2\\box1\\count1=\\wd1\\advance\\count1\\wd2 ", 327680);
+        count("{\\setbox1\\hbox{a}{{\\setbox1\\hbox{aa}}\\box1}\\global\\count1=\\wd1 }", 0);
         // The box is set behind the group that it has.
         count("{\\setbox1\\hbox{a\\setbox1\\hbox{aa}}\\global\\count1=\\wd1 }", 327680);
         count("\\setbox1\\hbox{a\\global\\setbox1\\hbox{aa}}\\count1=\\wd1 ", 327680);
