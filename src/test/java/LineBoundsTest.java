@@ -14,6 +14,7 @@ public final class LineBoundsTest {
         linePenalty();
         hyphenPenalties();
         doubleAndFinal();
+        justSoMany();
         adjacent();
         moreStretch();
         ties();
@@ -233,6 +234,10 @@ public final class LineBoundsTest {
         for (String t : new String[] {"10000", "10001", "2147483647"}) {
             about(text + "\\pretolerance" + t + " \\tolerance" + t + " a\\-a", 6, 1);
         }
+        for (String t : new String[] {"10000", "10001", "2147483647"}) {
+            about("\\pretolerance-1 \\hsize7pt\\tolerance" + t + " \\noindent a\\penalty0 b\\penalty0 c", 7, 3);
+            about("\\pretolerance" + t + " \\hsize7pt\\tolerance0 \\noindent a\\penalty0 b\\penalty0 c", 7, 3);
+        }
         // -1 and less: no first pass. 0: one that takes what is perfect.
         for (String t : new String[] {"-1", "-2", "-2147483647"}) {
             about("\\parindent0pt\\tolerance10000 \\pretolerance" + t + " a\\-a", 7, 3);
@@ -254,6 +259,11 @@ public final class LineBoundsTest {
         about("\\linepenalty-10001 " + text, 4, 2);
         about("\\linepenalty-20000 " + text, 4, 2);
         about("\\linepenalty-2147483647 " + text, 4, 2);
+        // Two lines cost as much as one and the final demerits, if the line penalty is 9999; with 10000 more.
+        String hyphen = RAGGED + "\\hyphenpenalty-9999 \\finalhyphendemerits-1 \\pretolerance-1 \\noindent a\\-b";
+        about("\\linepenalty9999 " + hyphen, 4, 2);
+        about("\\linepenalty10000 " + hyphen, 4, 1);
+        about("\\linepenalty2147483647 " + hyphen, 4, 1);
         // l + b of 10000 or more is 100000000: with 9999 a line less is worth more than a penalty.
         String forced = "\\parindent0pt\\rightskip0pt plus1fil\\tolerance10000 \\pretolerance10000 \\noindent\\vrule width1pt"
             + "\\penalty-9999 \\vrule width1pt\\penalty-9999 \\vrule width1pt\\par";
@@ -296,6 +306,33 @@ public final class LineBoundsTest {
         String last = RAGGED + "\\doublehyphendemerits0 \\pretolerance-1 \\linepenalty0 \\hsize15pt aa\\-\\penalty";
         for (String[] row : rows) {
             about("\\finalhyphendemerits" + row[0] + " " + last + row[1] + " ccc", 6, Integer.parseInt(row[2]) - 1);
+        }
+    }
+
+    /** Where both ways cost the same, the place that comes first is taken: so the greatest demerits are just 1000000. */
+    private static void justSoMany() {
+        for (String most : new String[] {"1000000", "1000001", "2147483647"}) {
+            for (String sign : new String[] {"", "-"}) {
+                String p = "\\penalty" + sign + "1000 ";
+                String twice = RAGGED + "\\finalhyphendemerits0 \\pretolerance-1 \\linepenalty2000 \\hsize15pt\\doublehyphendemerits" + sign
+                    + most + " aa\\-bb";
+                about(twice + p + "\\-ccc", 6, 1);
+                about(twice + "\\-" + p + "ccc", 6, 2);
+                String last = RAGGED + "\\doublehyphendemerits0 \\pretolerance-1 \\linepenalty2000 \\hsize15pt\\finalhyphendemerits" + sign
+                    + most + " aa";
+                about(last + p + "\\-ccc", 6, 0);
+                about(last + "\\-" + p + "ccc", 6, 1);
+            }
+            String head = "\\parindent0pt\\tolerance10000 \\pretolerance10000 \\hsize20pt\\adjdemerits";
+            String rule = "\\noindent\\vrule height1pt width10pt\\hskip0pt plus10pt\\penalty";
+            String mid = " \\vrule height1pt width10pt\\penalty";
+            String end = " \\vrule height1pt width5pt\\par";
+            String first = "rule 0 10 10 1 rule 0 22 10 1 rule 10 22 5 1";
+            String second = "rule 0 10 10 1 rule 10 10 10 1 rule 0 22 5 1";
+            House.duePages(head + most + " \\linepenalty318 " + rule + "0" + mid + "1440" + end, first);
+            House.duePages(head + most + " \\linepenalty318 " + rule + "1" + mid + "1440" + end, second);
+            House.duePages(head + "-" + most + " \\linepenalty150 " + rule + "0" + mid + "-1400" + end, first);
+            House.duePages(head + "-" + most + " \\linepenalty150 " + rule + "1" + mid + "-1400" + end, second);
         }
     }
 
@@ -457,6 +494,28 @@ public final class LineBoundsTest {
         run("\\parfillskip0pt\\noindent\\hskip0pt plus16383.9999fil\\relax\\hskip0pt plus6sp\\kern0pt", 0);
         run("\\parfillskip0pt\\noindent\\hskip0pt plus16383.9999fil\\relax\\hskip0pt plus7sp\\kern0pt", 1600001);
         run("\\parfillskip0pt\\noindent\\kern0pt\\hskip0pt plus16383.9999fil\\relax\\hskip0pt plus7sp", 1600001);
+        // Over all lines: each one alone could be packed.
+        String one = "\\setbox1\\vbox{\\parfillskip0pt\\hsize0pt\\leftskip0pt";
+        String part = "\\kern0pt\\penalty-10000\\vrule width0pt";
+        run(one + "\\noindent\\kern1073741822sp" + part + "\\kern1sp\\kern0pt\\par}", 0);
+        run(one + "\\noindent\\kern1073741822sp" + part + "\\kern2sp\\kern0pt\\par}", 1600001);
+        run(one + "\\noindent\\hskip0pt plus1073741822sp" + part + "\\hskip0pt plus1sp\\kern0pt\\par}", 0);
+        run(one + "\\noindent\\hskip0pt plus1073741822sp" + part + "\\hskip0pt plus2sp\\kern0pt\\par}", 1600001);
+        run(one + "\\noindent\\hskip0pt minus1073741822sp" + part + "\\hskip0pt minus1sp\\kern0pt\\par}", 0);
+        run(one + "\\noindent\\hskip0pt minus1073741822sp" + part + "\\hskip0pt minus2sp\\kern0pt\\par}", 1600001);
+        for (String each : new String[] {"leftskip", "rightskip"}) {
+            String set = one + "\\" + each;
+            run(set + "0pt minus1sp\\noindent\\hskip0pt minus1073741821sp" + part + "\\hskip0pt minus1sp\\kern0pt\\par}", 0);
+            run(set + "0pt minus1sp\\noindent\\hskip0pt minus1073741821sp" + part + "\\hskip0pt minus2sp\\kern0pt\\par}", 1600001);
+            run(set + "0pt plus1sp\\noindent\\hskip0pt plus1073741821sp" + part + "\\hskip0pt plus1sp\\kern0pt\\par}", 0);
+            run(set + "0pt plus1sp\\noindent\\hskip0pt plus1073741821sp" + part + "\\hskip0pt plus2sp\\kern0pt\\par}", 1600001);
+        }
+        run(one + "\\parfillskip0pt minus1sp\\noindent\\hskip0pt minus1073741823sp" + part + "\\par}", 1600001);
+        run(one + "\\parfillskip0pt plus1sp\\noindent\\hskip0pt plus1073741823sp" + part + "\\par}", 1600001);
+        run(one + "\\parfillskip1sp\\noindent\\kern1073741823sp" + part + "\\par}", 1600001);
+        // A hyphen counts where no line ends, too.
+        run(free + "\\hyphenpenalty10000 \\kern1073414143sp\\-" + broken, 0);
+        run(free + "\\hyphenpenalty10000 \\kern1073414144sp\\-" + broken, 1600001);
         // Behind that of 2000 items, before those of nodes.
         House.much(free + "\\kern" + most + "\\kern1sp" + House.loop(1999, "\\kern0pt"), 200001);
         House.much(free + "\\kern" + most + "\\kern1sp" + House.loop(1998, "\\kern0pt"), 1600001);

@@ -455,6 +455,17 @@ public final class PageBoundsTest {
         Bytes none = new Bytes().put(247, 2).fours(25400000, 473628672, 1000).put(0);
         end(none, -1, 0, 0, 0, () -> { });
         wholeFile("no pages", House.ran("", 0), none);
+        wholeFile("no pages, but boxes", House.ran("\\setbox1\\hbox{a}\\penalty-10000 ", 0), none);
+        wholeFile("no pages behind a fault", House.ran("\\hbox{a}\\u", 1100001), none);
+        Bytes single = new Bytes().put(247, 2).fours(25400000, 473628672, 1000).put(0);
+        single.put(139).fours(0, 0, 0, 0, 0, 0, 0, 0, 0, 0, -1).put(141);
+        single.put(159, 10, 0, 0, 145, 3, 0, 0).put(137).fours(65536, 131072).put(142, 140);
+        end(single, 15, 655360, 3 * 65536, 1, () -> { });
+        String rule = "\\moveright3pt\\hbox{\\vrule width2pt height1pt}";
+        wholeFile("one rule", House.ran(rule, 0), single);
+        House twice = House.ran("\\hbox{\\kern500pt a}\\kern300pt\\hbox{b}", 0);
+        House.due("another run", twice.run(rule), 0);
+        wholeFile("one rule in a second run", twice, single);
         Bytes two = new Bytes().put(247, 2).fours(25400000, 473628672, 1000).put(0);
         two.put(139).fours(-7, 1, 2, 3, 4, 5, 6, 7, 8, -9, -1).put(141);
         two.put(159, 10, 0, 0).font(0, 655360, "font0").put(171, 'a', 'b', 142, 140);
@@ -522,6 +533,17 @@ public final class PageBoundsTest {
         String d = "\\topskip0pt\\vbox{\\hrule height0sp depth1sp width1sp\\kern-1sp";
         code(d + "\\kern2sp" + lying + "\\kern3sp" + lying + "\\kern2sp" + lying + "\\kern3sp" + lying + "\\kern4sp" + lying + "}",
             "157 137 162 137 167 137 161 137 166 137 157 137");
+        // Moves right and down at once, and moves that are much alike.
+        String line = "\\hbox{\\kern1sp" + rule + "\\kern2sp" + rule + "\\kern1sp" + rule + "\\kern2sp" + rule + "}";
+        code("\\topskip0pt\\baselineskip0pt\\lineskip0pt\\lineskiplimit-9pt" + line + "\\penalty10000 \\kern2sp" + line
+            + "\\penalty10000 \\kern3sp" + line + "\\penalty10000 \\kern2sp" + line + "\\penalty10000 \\kern3sp" + line,
+            "157 148 137 153 137 147 137 152 137 162 143 137 152 137 147 137 152 137 167 143 137 152 137 147 137 152 137 "
+                + "161 143 137 152 137 147 137 152 137 166 143 137 152 137 147 137 152 137");
+        code(head + "\\kern1sp" + rule + "\\kern1024sp" + rule + "}", "157 143 137 144 137");
+        code(head + "\\kern1sp" + rule + "\\kern1024sp" + rule + "\\kern1sp" + rule + "\\kern1024sp" + rule + "}",
+            "157 148 137 154 137 147 137 152 137");
+        code(head + "\\kern1sp" + rule + "\\kern1024sp" + rule + "\\kern2sp" + rule + "\\kern2sp" + rule + "}",
+            "157 143 137 144 137 148 137 147 137");
         // Each page begins anew.
         code(head + k + "5sp" + rule + k + "5sp" + rule + "}\\penalty-10000 " + "\\hbox{" + k + "5sp" + rule + "}",
             "157 148 137 147 137 157 143 137");
@@ -568,6 +590,15 @@ public final class PageBoundsTest {
             House.due("its byte", one[at] & 255, c < 128 ? c : 128);
             House.due("and the next one", one[at + 1] & 255, c < 128 ? 142 : c);
         }
+        House.due("characters above 127 in one font", h.run("\\font\\f=0 \\f\\hbox{\\char200 \\char10 \\char201 \\char0 \\char0 \\kern1sp"
+            + "\\char0 }"), 0);
+        byte[] row = h.file();
+        int[] due = {171, 128, 200, 10, 128, 201, 0, 0, 143, 1, 0, 142};
+        for (int i = 0; i < due.length; i++) {
+            House.due("byte " + i + " of them", row[15 + 46 + 4 + 21 + i] & 255, due[i]);
+        }
+        House.due("the width of character 0", h.run("\\font\\f=0 \\f\\hbox{\\kern999672320sp\\char0 }"), 0);
+        House.due("the width of character 0", h.run("\\font\\f=0 \\f\\hbox{\\kern999672321sp\\char0 }"), 1600001);
         // A font that is not printed is not told.
         House.due("none told", House.ran("\\hbox{}", 0).house.size(), 56 + 48);
     }
