@@ -270,6 +270,12 @@ public final class CallBoundsTest {
             House.due("a name that does not end", often.run("\\csname " + "a".repeat(40) + "\\relax"), 600001);
             House.due("macros", often.run("\\def\\a{" + "x".repeat(400) + "}"), 0);
         }
+        for (int i = 0; i < 40; i++) {
+            House.due("many macros", often.run("\\def\\a{}".repeat(300)), 0);
+        }
+        House.due("too many nodes", often.run("\\pretolerance10000 \\noindent" + "\\penalty0".repeat(125)), 200001);
+        House.due("nodes", often.run("\\pretolerance10000 \\noindent" + "\\penalty0".repeat(50)), 0);
+        House.due("nodes", often.house.about(7), 51 * 52 / 2);
         House.due("a name", often.run("\\def\\abc{\\count1=5 }\\csname abc\\endcsname"), 0);
         House.due("a name", often.house.count(1), 5);
         House first = House.withFont();

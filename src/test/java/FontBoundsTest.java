@@ -522,6 +522,12 @@ public final class FontBoundsTest {
         row("a skip of 127 goes on 128 places further", far, "ab", "F 0");
         far.program.set(0, new int[] {128, 'x', 0, 'y'});
         row("a skip of 128 goes no further", far, "ab", "a 0 b 5");
+        Metrics slanted = plain().start('a', 0).step(128, 'b', 0, 'E');
+        slanted.italics.add(Metrics.HALF / 2);
+        slanted.characters.get('a' - 33)[2] = 4 + 1;
+        row("an italic beside the tag", slanted, "ab", "E 0");
+        slanted.characters.get('a' - 33)[2] = 4;
+        row("an italic without a tag", slanted, "ab", "a 0 b 5");
         row("u is 1", plain().start('a', 0).start('c', 1).start('d', 2).step(128, 'b', 4, 'c').step(128, 'd', 0, 'X')
             .step(128, 'e', 0, 'Y'), "abde", "c 0 Y 5");
         row("u is 2", plain().start('a', 0).start('c', 1).start('d', 2).step(128, 'b', 8, 'c').step(128, 'd', 0, 'X')

@@ -135,6 +135,12 @@ public final class LineBoundsTest {
         h.give(0, m.bytes());
         House.due("a kern of a word", h.run("\\font\\f=0 \\f " + RAGGED + "\\pretolerance10000 \\noindent a\\hskip0pt\\kern0pt\\par"), 0);
         House.due("a kern of a word", h.house.about(7), 3);
+        // Nor is it left out behind a break.
+        Metrics front = new Metrics().plain().step(128, 'a', 128, 0).step(255, 0, 0, 0);
+        front.kerns.add(Metrics.HALF / 8);
+        h.give(0, front.bytes());
+        House.due("a kern before a word", h.run("\\font\\f=0 \\f\\parindent0pt a\\hfil\\penalty-10000 a"), 0);
+        House.due("a kern before a word", h.pages().get(0), "a 0.625 10 a 0.625 22");
     }
 
     private static void leftOut() {
@@ -216,6 +222,26 @@ public final class LineBoundsTest {
         int loose = chosenByAdjacent(9950, 10000);
         House.due("badness 100 is very loose", veryLoose, 1);
         House.due("badness 99 is loose", loose, 0);
+        // A tight line, and then one with badness 12 or 13: decent or loose. The adjacent demerits come with the latter.
+        String head = "\\parindent0pt\\tolerance10000 \\pretolerance10000 \\linepenalty0 \\adjdemerits20000 \\hsize13pt\\noindent";
+        String tight = "\\vrule height1pt width15pt\\penalty10000 \\hskip0pt minus2pt\\penalty-10000 ";
+        String end = "\\vrule height1pt width1pt\\penalty100 \\vrule height1pt width5pt\\par";
+        int[][] rows = {{12, 394543, 131514}, {13, 391896, 130632}};
+        for (int[] row : rows) {
+            String here = row[0] == 12 ? "rule 0 34 1 1 rule 1 34 5 1" : "rule 12 22 1 1 rule 0 34 5 1";
+            House.due("badness", bad(3 * 65536, row[1]), row[0]);
+            House.duePages(head + tight + "\\vrule height1pt width10pt\\hskip0pt plus" + row[1] + "sp\\penalty0 \\hskip0pt plus1fil" + end,
+                "rule 0 10 15 1 rule 0 22 10 1 " + here);
+        }
+        // A loose line, and then one with badness 12 or 13: decent or tight.
+        String looseLine = "\\vrule height1pt width11pt\\penalty10000 \\hskip0pt plus3pt\\penalty-10000 ";
+        for (int[] row : rows) {
+            House.due("badness", bad(65536, row[2]), row[0]);
+            String text = head + looseLine + "\\vrule height1pt width14pt\\penalty10000 \\hskip0pt minus" + row[2] + "sp\\penalty0 \\hskip0pt minus8pt"
+                + end.replace("width5pt", "width12pt");
+            String[] marks = House.ran(text, 0).pages().get(0).split(" ");
+            House.due(text + " (the line of the third rule)", marks[12], row[0] == 12 ? "34" : "22");
+        }
     }
 
     /** 1 if a line that stretches t by s is left alone because of adjacent demerits. */
@@ -264,6 +290,9 @@ public final class LineBoundsTest {
         about("\\linepenalty9999 " + hyphen, 4, 2);
         about("\\linepenalty10000 " + hyphen, 4, 1);
         about("\\linepenalty2147483647 " + hyphen, 4, 1);
+        String just = RAGGED + "\\hyphenpenalty-9999 \\linepenalty10000 \\pretolerance-1 \\noindent a\\-b";
+        about("\\finalhyphendemerits-19999 " + just, 4, 1);
+        about("\\finalhyphendemerits-20000 " + just, 4, 2);
         // l + b of 10000 or more is 100000000: with 9999 a line less is worth more than a penalty.
         String forced = "\\parindent0pt\\rightskip0pt plus1fil\\tolerance10000 \\pretolerance10000 \\noindent\\vrule width1pt"
             + "\\penalty-9999 \\vrule width1pt\\penalty-9999 \\vrule width1pt\\par";
@@ -364,6 +393,8 @@ public final class LineBoundsTest {
         about(text + "9pt\\par", 7, 1);
         about(text + "10pt\\par", 7, 2);
         about(text + "16370pt\\par", 7, 3);
+        about("\\emergencystretch1sp\\tolerance100 \\pretolerance-1 \\hsize327681sp\\noindent a\\penalty0 b\\par", 7, 2);
+        about("\\emergencystretch0sp\\tolerance100 \\pretolerance-1 \\hsize327681sp\\noindent a\\penalty0 b\\par", 7, 1);
     }
 
     private static void ties() {
@@ -375,6 +406,19 @@ public final class LineBoundsTest {
             "a 0 10 b 5 10 c 0 22 c 5 22");
         House.duePages(RAGGED + "\\linepenalty0 \\pretolerance10000 \\hsize15pt a\\penalty0 b\\penalty0 cc",
             "a 0 10 b 0 22 c 5 22 c 10 22");
+        // Two ways to one place with as many lines and the same total: the former one with the greatest fit.
+        String head = "\\parindent0pt\\tolerance10000 \\pretolerance10000 \\linepenalty0 \\adjdemerits0 \\hsize10pt\\noindent"
+            + "\\vrule height1pt width10pt\\penalty";
+        String loose = "38 \\vrule width0pt\\penalty10000 \\hskip2pt minus4pt\\penalty20 \\vrule height1pt width8pt";
+        String tight = "638 \\vrule width0pt\\penalty10000 \\hskip-2pt plus4pt\\penalty630 \\vrule height1pt width12pt";
+        String last = "\\penalty-10000 \\vrule height1pt width5pt\\par";
+        House.duePages(head + loose + "\\penalty10000 \\hskip0pt plus3pt" + last,
+            "rule 0 10 10 1 rule 2 22 8 1 rule 0 34 5 1");
+        House.duePages(head + tight + "\\penalty10000 \\hskip0pt minus2pt" + last,
+            "rule 0 10 10 1 rule 0 22 12 1 rule 0 34 5 1");
+        // At the end of the paragraph: the least fit.
+        House.duePages("\\parfillskip0pt plus3pt" + head + loose + "\\par", "rule 0 10 10 1 rule 0 22 8 1");
+        House.duePages("\\parfillskip0pt minus2pt" + head + tight + "\\par", "rule 0 10 10 1 rule -2 22 12 1");
     }
 
     private static void rescue() {
@@ -423,6 +467,8 @@ public final class LineBoundsTest {
         String need = "\\pretolerance-1 \\tolerance10000 \\noindent";
         String over = "\\penalty-10000\\vrule width9999pt ";
         about(need + "\\penalty0".repeat(123) + over, 7, 123 * 124 / 2 + 124 + 1);
+        about(need + "\\penalty0".repeat(18) + "\\penalty-10000".repeat(411) + over, 7, 8000);
+        run(need + "\\penalty0".repeat(124) + "\\penalty-10000" + over, 200001);
     }
 
     /** The looks of a paragraph of m penalties, without hyphens, in one pass. */
@@ -476,6 +522,7 @@ public final class LineBoundsTest {
         run(free + "\\kern1073414144sp\\-" + broken, 1600001);
         run(free + "\\kern1073414143sp -" + broken, 0);
         run(free + "\\kern" + most + "\\penalty9999 " + broken, 0);
+        House.due("nothing stands before a hyphen without a font", new House().run(free + "\\kern" + most + "\\-" + broken), 0);
         for (String glue : new String[] {"leftskip", "rightskip", "parfillskip"}) {
             String set = "\\setbox1\\vbox{\\parfillskip0pt\\hsize0pt\\" + glue;
             run(set + "1sp\\noindent\\kern1073741822sp" + broken, 0);
@@ -547,7 +594,13 @@ public final class LineBoundsTest {
         House.duePages(none + hyphen + "a-b", "a 0 10 - 5 10", "b 0 10");
         House.duePages(none + hyphen + two, "a 0 10 b 0 22");
         // No penalty if the sum is 0: no item comes.
-        House.much(none + House.loop(2499, "\\noindent\\kern0pt\\penalty-10000\\kern0pt\\par"), 200001);
+        String pair = "\\noindent\\kern0pt\\penalty-10000\\kern0pt\\par";
+        House.much(none + House.loop(9994, "\\penalty0") + pair, 0);
+        House.much(none + House.loop(9995, "\\penalty0") + pair, 200001);
+        House.much(none + House.loop(9993, "\\penalty0") + "\\interlinepenalty1 " + pair, 0);
+        House.much(none + House.loop(9994, "\\penalty0") + "\\interlinepenalty1 " + pair, 200001);
+        House.much(none + House.loop(9994, "\\penalty0") + "\\clubpenalty7 \\widowpenalty-7 " + pair, 0);
+        House.much(none + House.loop(9994, "\\penalty0") + "\\clubpenalty1 " + pair, 200001);
         about("\\vbox{" + none + two + "}", 3, 3 + 4 + 4);
         about("\\vbox{" + two + "}", 3, 3 + 4 + 4);
         // None behind the last line.
@@ -586,6 +639,14 @@ public final class LineBoundsTest {
         House.due("lines that were broken", h.house.about(4), 2);
         House.due("nodes", h.house.about(7), 2);
         House.due("boxes", h.house.about(2), 0);
+        // A page that a line or a penalty ends is shipped before the next line is packed.
+        String tall = "\\vsize15pt\\hsize1073741823sp\\hbox{a}";
+        h = House.ran(tall + "\\noindent\\penalty-10000\\vrule width-1sp\\par", 1600001);
+        House.due("shipped by the penalty", h.house.about(1), 1);
+        h = House.ran("\\clubpenalty0 \\widowpenalty0 " + tall + "\\noindent\\penalty-10000\\vrule width-1sp\\par", 1600001);
+        House.due("no penalty", h.house.about(1), 0);
+        h = House.ran("\\clubpenalty0 \\widowpenalty0 " + tall + "\\noindent\\penalty-10000\\hbox{}\\penalty-10000\\vrule width-1sp\\par", 1600001);
+        House.due("shipped by the second line", h.house.about(1), 1);
         h = House.ran("\\hsize1073741823sp\\noindent\\penalty-10000\\vrule width-1sp\\par", 1600001);
         House.due("lines that were broken", h.house.about(4), 2);
         House.due("the first line is a box", h.house.about(2), 1);

@@ -97,6 +97,8 @@ public final class ListBoundsTest {
             double stretched = n < 2 ? 5 : n < 3 ? 7.5 : 8.125;
             House.due("its stretch", h.pages().get(0).split(" ")[4], stretched == 5 ? "5" : String.valueOf(stretched));
             House.due("its shrink", h.house.about(5), n < 4 ? 1 : 0);
+            House.due("a little less", h.run("\\font\\f=0 \\f\\hbox spread-1sp{a b}"), 0);
+            House.due("its shrink", h.house.about(5), n < 4 ? 1 : 0);
         }
         Metrics less = new Metrics().plain();
         less.parameters.set(1, 0xfffc0000);
@@ -155,6 +157,20 @@ public final class ListBoundsTest {
         run("\\count1=1\\ifvmode1\\fi\\relax\\ifnum\\count1=11\\else\\u\\fi", 0);
         run("a\\ifvmode\\u\\fi\\ifhmode\\else\\u\\fi", 0);
         run("\\vbox{\\ifvmode\\else\\u\\fi}\\hbox{\\ifhmode\\else\\u\\fi}", 0);
+        run("\\vbox{a\\par\\ifvmode\\else\\u\\fi}", 0);
+        run("\\vbox{\\noindent\\par\\ifvmode\\else\\u\\fi\\hbox{}\\ifvmode\\else\\u\\fi}", 0);
+        run("\\hbox{\\vbox{}\\ifhmode\\else\\u\\fi}", 0);
+        run("a\\par\\ifvmode\\else\\u\\fi", 0);
+        // A space is nothing in vertical modes.
+        about(" {} {} ", 3, 0);
+        about("\\vbox{ {} {} }", 3, 0);
+        about("\\hbox{ {} {} }", 3, 3);
+        // In a vbox parskip comes before a paragraph only if the list is not empty.
+        about("\\vbox{\\noindent b}", 3, 1 + 4);
+        about("\\vbox{\\hbox{}\\noindent b}", 3, 4 + 4);
+        about("\\vbox{\\penalty5 \\noindent b}", 3, 2 + 4);
+        about("\\hbox{a\\vbox{\\noindent b}}", 3, 2 + 1 + 4);
+        about("\\hbox{a\\vbox{\\hbox{}\\noindent b}}", 3, 2 + 4 + 4);
         run("\\char\\ifhmode97 \\else\\u\\fi", 0);
         run("a\\vskip\\ifvmode1pt\\else\\u\\fi", 0);
         run("\\hskip\\ifhmode1pt\\else\\u\\fi", 0);
@@ -164,6 +180,9 @@ public final class ListBoundsTest {
     private static void rules() {
         House.duePages("\\hbox{a}\\hrule", "a 0 10 rule 0 10.4 5 0.4");
         House.duePages("\\hbox{a\\vrule}", "a 0 10 rule 5 10 0.4 5");
+        House.dueCount("\\setbox1\\hbox{\\vrule}\\count1=\\wd1 ", 26214);
+        House.dueCount("\\setbox1\\vbox{\\hrule}\\count1=\\ht1 ", 26214);
+        House.dueCount("\\setbox1\\vbox{\\hrule}\\count1=\\dp1 ", 0);
         House.duePages("\\hbox{a\\vrule height2pt height3pt depth1pt WIDTH2pt width1pt}", "a 0 10 rule 5 11 1 4");
         House.duePages("\\hbox{a}\\hrule depth1pt height0pt width5pt", "a 0 10 rule 0 11 5 1");
         // A mark only if its width is above 0, and its height and depth together are.
@@ -458,6 +477,7 @@ public final class ListBoundsTest {
         about("\\hbox spread-1sp{}", 5, 1);
         about("\\hbox spread-1sp{\\hskip0pt minus1sp}", 5, 0);
         about("\\hbox to0sp{\\hskip1sp plus1fil}", 5, 1);
+        about("\\hbox spread-1sp{\\hfil}\\hbox spread-1sp{\\hfill}\\vbox spread-1sp{\\vfil}\\vbox spread-1sp{\\vfill}", 5, 4);
         about("\\vbox to0sp{\\kern1sp}", 5, 1);
         about("\\vbox to0sp{\\vskip1sp minus1sp}", 5, 0);
         about("\\vbox to0sp{\\hrule height0sp depth9sp}", 5, 0);
@@ -480,6 +500,8 @@ public final class ListBoundsTest {
         House.dueX("\\hbox to9sp{\\hskip0pt plus1fil" + rule + "\\hskip0pt plus1fill" + rule + "}", 0, 9);
         House.dueX("\\hbox to9sp{\\hskip0pt plus1filll" + rule + "\\hskip0pt plus1fill" + rule + "}", 9, 9);
         House.dueX("\\hbox to9sp{\\hskip0pt plus1fil" + rule + "\\hskip0pt plus9pt" + rule + "}", 9, 9);
+        House.dueX("\\hbox to1000000sp{\\hfil" + rule + "\\hskip0pt plus1fil" + rule + "}", 500000, 1000000);
+        House.dueX("\\hbox to1000000sp{\\hfill" + rule + "\\hskip0pt plus1fill" + rule + "}", 500000, 1000000);
         House.dueX("\\hbox to9sp{\\kern2sp" + rule + "\\hskip0pt plus9pt" + rule + "}", 2, 9);
         House.dueX("\\hbox to9sp{\\hskip2sp" + rule + "\\hskip3sp" + rule + "}", 2, 5);
         House.dueX("\\hbox spread0sp{\\hskip2sp plus9sp minus9sp" + rule + "}", 2);

@@ -101,6 +101,11 @@ public final class PageBoundsTest {
         String fil = "\\vskip0pt plus1fil";
         String second = "rule 0 10 2 5";
         pages(head + fil + "\\penalty5 " + box + "\\penalty6 \\kern45pt" + c, first, second, third);
+        String both = "\\vskip0pt plus1fil\\vskip0pt plus1fill";
+        pages(head + both + "\\penalty5 " + box + "\\penalty6 \\kern45pt" + c, first, second, third);
+        pages(head + both.replace("fill", "filll") + "\\penalty5 " + box + "\\penalty6 \\kern45pt" + c, first, second, third);
+        both = "\\vskip0pt plus1fill\\vskip0pt plus1filll";
+        pages(head + both + "\\penalty5 " + box + "\\penalty6 \\kern45pt" + c, first, second, third);
         pages(head + fil + "\\penalty6 " + box + "\\penalty6 \\kern45pt" + c, first + " rule 0 45 2 5", third);
         pages(head + fil + "\\penalty7 " + box + "\\penalty6 \\kern45pt" + c, first + " rule 0 45 2 5", third);
         pages(head + fil + "\\penalty-6 " + box + "\\penalty-5 \\kern45pt" + c, first, second, third);
@@ -164,6 +169,11 @@ public final class PageBoundsTest {
             + "\\vskip0pt plus16383fil".repeat(4) + "\\hbox{b}" + "\\penalty10000\\vskip0pt plus16383fil".repeat(4)
             + "\\hbox{c}\\penalty-10000 ";
         pages(stretch, "a 0 10 b 0 60 c 0 110");
+        // More than 64 bits: stretch and excess are both above 2^32.
+        String more = "\\vskip0pt plus16383fil";
+        pages("\\vsize16383pt\\hrule height5pt width1pt\\penalty10000 \\kern-16383pt\\kern-16383pt\\kern-8191.5pt" + more.repeat(4)
+            + "\\hrule height1pt width2pt\\penalty10000 " + more.repeat(4) + "\\kern-16383pt\\kern-8191.5pt\\hrule height0pt width0pt"
+            + "\\penalty-10000 ", "rule 0 10 1 5 rule 0 5.5 2 1");
         String shrink = "\\vsize60pt\\baselineskip0pt\\lineskip0pt\\lineskiplimit-99pt\\hbox{a}\\penalty10000 \\kern100pt"
             + "\\vskip0pt minus16383pt".repeat(4) + "\\hbox{b}" + "\\penalty10000\\vskip0pt minus16383pt".repeat(4)
             + "\\hbox{c}\\penalty-10000 ";
@@ -171,6 +181,17 @@ public final class PageBoundsTest {
     }
 
     private static void set() {
+        // parskip, baselineskip and lineskip give and take as they are.
+        String two = "\\parindent0pt\\hbox{a}\\noindent b\\par\\penalty10000 \\vskip0pt plus1fil minus3pt\\hrule height1pt width1pt\\penalty-10000 ";
+        pages("\\vsize43pt\\parskip0pt plus1fil" + two, "a 0 10 b 0 32 rule 0 43 1 1");
+        pages("\\vsize43pt\\parskip0pt plus1fill" + two, "a 0 10 b 0 42 rule 0 43 1 1");
+        pages("\\vsize43pt\\parskip0pt plus1pt" + two, "a 0 10 b 0 22 rule 0 43 1 1");
+        pages("\\vsize19pt\\parskip0pt minus3pt" + two, "a 0 10 b 0 20 rule 0 19 1 1");
+        pages("\\vsize43pt\\baselineskip12pt plus1fil\\parskip0pt" + two, "a 0 10 b 0 32 rule 0 43 1 1");
+        pages("\\vsize43pt\\baselineskip12pt plus1fill\\parskip0pt" + two, "a 0 10 b 0 42 rule 0 43 1 1");
+        pages("\\vsize19pt\\baselineskip12pt minus3pt\\parskip0pt" + two, "a 0 10 b 0 20 rule 0 19 1 1");
+        pages("\\vsize43pt\\baselineskip0pt\\lineskip7pt plus1fil\\parskip0pt" + two, "a 0 10 b 0 32 rule 0 43 1 1");
+        pages("\\vsize19pt\\baselineskip0pt\\lineskip7pt minus3pt\\parskip0pt" + two, "a 0 10 b 0 20 rule 0 19 1 1");
         // parskip has 65536 of stretch at first: as much as the other glue.
         House.dueY("\\parindent0pt\\vsize40pt\\hbox{a}\\noindent b\\par\\penalty10000 \\vskip0pt plus65536sp\\hrule height1pt width1pt"
             + "\\penalty-10000 ", 655360, 1998848, 2621440);
@@ -367,6 +388,9 @@ public final class PageBoundsTest {
         run("\\count0=2147483647 \\hbox{" + far + "}", 1600001);
         // 17 for items before 16.
         House.much("\\vsize10000pt\\setbox1\\hbox{" + House.loop(999, "\\kern0pt") + "}\\hbox{" + far + "}" + "\\copy1".repeat(20), 1700001);
+        // parskip comes before the indent is packed.
+        House.much("\\vsize0pt\\count0=2147483647 " + House.loop(2999, "\\setbox1\\hbox{}") + "\\hbox{}a", 700001);
+        House.much("\\vsize0pt" + House.loop(2999, "\\setbox1\\hbox{}") + "\\hbox{}a", 200001);
         // A fault in shipping ends all, within what ships.
         run("\\hbox{" + far + "}\\penalty-10000\\u", 1600001);
         run("\\hbox{" + far + "}\n\\penalty-10000\n\\u", 1600002);
@@ -389,6 +413,9 @@ public final class PageBoundsTest {
         pages("\\vsize100pt\\hbox{a}\\vskip0pt plus9fil\\hbox{b}", "a 0 10 b 0 22");
         pages("\\vsize100pt\\hbox{a}\\vskip0pt plus1fill\\hbox{b}", "a 0 10 b 0 61");
         pages("\\vsize100pt\\hbox{a}\\vskip0pt plus1filll\\hbox{b}", "a 0 10 b 0 100");
+        // The last glue does not shrink.
+        pages("\\vsize17pt\\hbox{a}\\penalty0 \\hrule width1pt height458752sp\\penalty10000 ", "a 0 10 rule 0 17 1 7");
+        pages("\\vsize17pt\\hbox{a}\\penalty0 \\hrule width1pt height458753sp\\penalty10000 ", "a 0 10", "rule 0 10 1 7.0");
         // A new run begins with all as at first.
         House again = House.withFont();
         House.due("much is set", again.run("\\font\\f=0 \\f\\hsize1pt\\vsize1pt\\catcode`Q=14 \\def\\par{\\u}\\count7=5 \\setbox1\\hbox{b}"

@@ -215,6 +215,10 @@ public final class TokenBoundsTest {
         run("\\skip1=" + "\\skip" + "\\count".repeat(40) + "1 ", 300001);
         run("\\csname".repeat(40) + "\\endcsname".repeat(40), 600001);
         run("\\csname".repeat(41), 300001);
+        // Forty names within one another, each of forty characters.
+        String most = "\\csname " + "a".repeat(39);
+        count("\\expandafter\\def\\csname " + "a".repeat(39) + "y\\endcsname{y}\\let\\y=y\\edef\\b{" + most.repeat(40) + "y"
+            + "\\endcsname".repeat(40) + "}\\def\\c{y}\\ifx\\b\\c\\count1=1 \\fi", 1);
         run("\\ifnum".repeat(20) + "1=1 ", 900001);
         run("\\ifnum".repeat(21), 300001);
         // Expansions that are over do not count, nor do macros that put macros.

@@ -489,6 +489,8 @@ public final class ValueBoundsTest {
     private static void glueSums() {
         String one = "\\skip1=1pt plus1pt minus1pt";
         run(one + "\\advance\\skip1 by -1pt plus 16382.9999pt minus16382.9999pt", 0);
+        count("\\skip1=1sp\\advance\\skip1 by 2sp\\count1=\\skip1 ", 3);
+        count("\\skip1=1sp\\advance\\skip1 by -2sp\\count1=\\skip1 ", -1);
         run(one + "\\advance\\skip1 by 0pt plus 16383.9999pt", 700001);
         run(one + "\\advance\\skip1 by 0pt minus 16383.9999pt", 700001);
         run(one + "\\advance\\skip1 by 16383.9999pt", 700001);
@@ -515,7 +517,7 @@ public final class ValueBoundsTest {
             "rule 9.75 10 0.5 1");
         // A stretch that is a length, or glue, is of order 0.
         for (String length : new String[] {"\\hsize", "\\parfillskip", "\\baselineskip"}) {
-            String stretch = "\\parfillskip1pt plus1fil\\skip1=0pt plus1fill\\skip1=0pt plus" + length + "\\relax";
+            String stretch = "\\parfillskip1pt plus1fil\\skip1=0pt plus1fill\\skip1=\\wd9 plus" + length + "\\relax";
             House.duePages(stretch + "\\hbox to20pt{\\hskip\\skip1 \\vrule height1pt width0.5pt\\hfil}", "rule 0 10 0.5 1");
         }
         String none = "\\skip1=0pt plus0filll\\advance\\skip1 by 0pt plus1pt\\relax";
@@ -572,6 +574,8 @@ public final class ValueBoundsTest {
         run("{\\let\\x=\\relax}\\x", 1100001);
         count("\\let~=\\count~1=9 ", 9);
         run("\\let\\relax=\\u\\relax", 1100001);
+        run("\\def\\expandafter{\\u}\\expandafter", 1100001);
+        run("\\let\\global=\\u\\global", 1100001);
         run("\\chardef a=5 ", 600001);
         run("{\\chardef\\x=65 }\\x", 1100001);
     }
