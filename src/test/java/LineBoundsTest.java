@@ -416,6 +416,9 @@ public final class LineBoundsTest {
             "rule 0 10 10 1 rule 2 22 8 1 rule 0 34 5 1");
         House.duePages(head + tight + "\\penalty10000 \\hskip0pt minus2pt" + last,
             "rule 0 10 10 1 rule 0 22 12 1 rule 0 34 5 1");
+        // A tight line, or two decent ones at the same cost: the fewest lines.
+        about(head + "100 \\vrule width2pt\\penalty10000 \\hskip0pt minus2pt\\vrule width0pt\\par", 4, 1);
+        about(head + "99 \\vrule width2pt\\penalty10000 \\hskip0pt minus2pt\\vrule width0pt\\par", 4, 2);
         // At the end of the paragraph: the least fit.
         House.duePages("\\parfillskip0pt plus3pt" + head + loose + "\\par", "rule 0 10 10 1 rule 0 22 8 1");
         House.duePages("\\parfillskip0pt minus2pt" + head + tight + "\\par", "rule 0 10 10 1 rule -2 22 12 1");

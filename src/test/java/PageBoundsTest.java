@@ -174,6 +174,11 @@ public final class PageBoundsTest {
         pages("\\vsize16383pt\\hrule height5pt width1pt\\penalty10000 \\kern-16383pt\\kern-16383pt\\kern-8191.5pt" + more.repeat(4)
             + "\\hrule height1pt width2pt\\penalty10000 " + more.repeat(4) + "\\kern-16383pt\\kern-8191.5pt\\hrule height0pt width0pt"
             + "\\penalty-10000 ", "rule 0 10 1 5 rule 0 5.5 2 1");
+        pages("\\vsize16383pt\\hrule height5pt width1pt\\penalty10000 \\kern-16383pt\\kern-4097pt" + more.repeat(2)
+            + "\\hrule height1pt width2pt\\penalty10000 " + more.repeat(6) + "\\kern-16383pt\\kern-16383pt\\kern-12286pt"
+            + "\\hrule height0pt width0pt\\penalty-10000 ", "rule 0 10 1 5 rule 0 7 2 1");
+        pages("\\vsize16383pt\\hrule height5pt width1pt\\penalty10000 " + more.repeat(9) + "\\hrule height1pt width2pt\\penalty10000 "
+            + more.repeat(9) + "\\hrule height0pt width0pt\\penalty-10000 ", "rule 0 10 1 5 rule 0 8197 2 1");
         String shrink = "\\vsize60pt\\baselineskip0pt\\lineskip0pt\\lineskiplimit-99pt\\hbox{a}\\penalty10000 \\kern100pt"
             + "\\vskip0pt minus16383pt".repeat(4) + "\\hbox{b}" + "\\penalty10000\\vskip0pt minus16383pt".repeat(4)
             + "\\hbox{c}\\penalty-10000 ";
