@@ -42,6 +42,12 @@ public final class ListBoundsTest {
         run("\u00e4", 1400001);
         run("\\hbox{\\char32 }", 1400001);
         run("\\chardef\\x=127 \\x", 1400001);
+        Metrics gap = new Metrics().plain();
+        gap.characters.set('b' - 33, new int[] {0, 16, 0, 0});
+        House some = new House();
+        some.give(0, gap.bytes());
+        House.due("a character within bc .. ec that is there", some.run("\\font\\f=0 \\f a"), 0);
+        House.due("one that is not there", some.run("\\font\\f=0 \\f b"), 1400001);
         House none = new House();
         for (String source : new String[] {"a", "1", "\\char97 ", "\\chardef\\x=97 \\x", "\\hbox{a}", "\\hbox{ }", "\\ %",
             "\\hbox{\\ }", "\\noindent\\char97 "}) {

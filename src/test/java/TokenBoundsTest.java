@@ -6,6 +6,7 @@ public final class TokenBoundsTest {
         categories();
         names();
         mostNames();
+        primitives();
         pending();
         nesting();
         ticks();
@@ -172,6 +173,32 @@ public final class TokenBoundsTest {
         String source = "\\font\\f=0 \\f " + loop(998, made);
         House.due("998 names and two", h.run(source), 0);
         House.due("998 other ones", h.run(source.replace("csname n", "csname m")), 0);
+    }
+
+    /** At first the primitives' names mean these, and no others mean anything. */
+    private static void primitives() {
+        String names = "expandafter noexpand csname string number romannumeral the if ifcat ifx ifnum ifdim ifodd ifvmode ifhmode ifvoid "
+            + "iftrue iffalse ifcase else or fi relax endcsname begingroup endgroup end par char hskip hfil hfill vrule indent noindent - "
+            + "vskip vfil vfill hrule kern penalty raise lower moveleft moveright hbox vbox box copy setbox def edef gdef xdef let chardef "
+            + "font catcode advance multiply divide count dimen skip pretolerance tolerance linepenalty hyphenpenalty exhyphenpenalty "
+            + "clubpenalty widowpenalty brokenpenalty interlinepenalty adjdemerits doublehyphendemerits finalhyphendemerits looseness "
+            + "hsize vsize parindent lineskiplimit maxdepth emergencystretch parskip baselineskip lineskip topskip leftskip rightskip "
+            + "parfillskip wd ht dp global";
+        String[] all = names.split(" ");
+        for (int i = 0; i < all.length; i++) {
+            count("\\count1=0\\ifx\\" + all[i] + "\\undefined1\\else2\\fi\\relax", 2);
+            String other = all[(i + 1) % all.length];
+            count("\\count1=0\\ifx\\" + all[i] + (all[i].equals("-") ? "" : " ") + "\\" + other + (other.equals("-") ? "" : " ")
+                + "1\\else2\\fi\\relax", 2);
+        }
+        count("\\count1=0\\ifx\\ \\undefined1\\else2\\fi\\relax", 2);
+        for (String none : new String[] {"hss", "unskip", "bye", "break", "hyphenation", "ifmmode", "toks", "a", "Relax", "parr", "pa",
+            "vsplit", "message", "/", "0", "_"}) {
+            run("\\" + none, 1100001);
+        }
+        run("~", 1100001);
+        run("\\catcode`!=13 !", 1100001);
+        run("\\catcode13=0 \\relax\n", 1100001);
     }
 
     private static void pending() {
