@@ -2,15 +2,23 @@ import java.io.IOException;
 import java.nio.file.Files;
 import java.nio.file.Path;
 
-/** Promises 4, 6, 7, 8 and 9 on recorded runs, whose answers a second, plainer program worked out. */
+/** Promises 4, 6, 7, 8 and 9 on recorded runs, whose answers two other, plainer programs worked out. */
 public final class RecordedTest {
-    private static final Path RUNS = Path.of("src/test/data/runs.txt");
+    private static final String[] FILES = {"src/test/data/runs.txt", "src/test/data/models.txt"};
 
     public static void main(String[] args) throws IOException {
+        for (String file : FILES) {
+            compareAll(file);
+        }
+        House.close();
+    }
+
+    private static void compareAll(String file) throws IOException {
         House h = new House();
-        int line = 0;
-        for (String text : Files.readAllLines(RUNS)) {
-            line++;
+        int number = 0;
+        for (String text : Files.readAllLines(Path.of(file))) {
+            number++;
+            String line = file + ", line " + number;
             String[] row = text.split(" ");
             switch (row[0]) {
                 case "house":
@@ -28,7 +36,6 @@ public final class RecordedTest {
                     break;
             }
         }
-        House.close();
     }
 
     private static byte[] bytes(String hex) {
@@ -39,11 +46,11 @@ public final class RecordedTest {
         return b;
     }
 
-    private static void due(int line, String what, long got, String want) {
-        House.due(RUNS + ", line " + line + ", " + what, got, Long.parseLong(want));
+    private static void due(String line, String what, long got, String want) {
+        House.due(line + ", " + what, got, Long.parseLong(want));
     }
 
-    private static void compare(int line, TypeHouse house, String[] row) {
+    private static void compare(String line, TypeHouse house, String[] row) {
         for (int i = 0; i < 8; i++) {
             due(line, "about " + i, house.about(i), row[3 + i]);
         }
